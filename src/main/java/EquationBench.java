@@ -437,7 +437,7 @@ public final class EquationBench {
             high = rowCount;
             wide = columnCount;
             int room = data.length;
-            for (int i = 0; i < 20 && room < count(); i++) {
+            for (int i = 0; i < 20 && room < high * wide; i++) {
                 room = room * 2;
             }
             if (room > data.length) {
@@ -447,17 +447,20 @@ public final class EquationBench {
 
         void fill(int rowCount, int columnCount, double number) {
             shape(false, rowCount, columnCount);
-            Arrays.fill(data, 0, count(), number);
+            Arrays.fill(data, 0, rowCount * columnCount, number);
         }
 
         void becomeNumber(double number) {
-            fill(1, 1, number);
+            shape(false, 1, 1);
+            data[0] = number;
         }
 
         void becomeUnit(int n) {
-            fill(n, n, 0);
+            shape(false, n, n);
             for (int i = 0; i < n; i++) {
-                data[i * n + i] = 1;
+                for (int j = 0; j < n; j++) {
+                    data[i * n + j] = i == j ? 1 : 0;
+                }
             }
         }
 
@@ -492,15 +495,6 @@ public final class EquationBench {
 
         boolean isSquare() {
             return high == wide;
-        }
-
-        boolean hasNumber(double number) {
-            for (int i = 0; i < count(); i++) {
-                if (data[i] == number) {
-                    return true;
-                }
-            }
-            return false;
         }
 
         /** The greatest of the numbers, as indexes: 0 for none, NONE if one is no index up to the limit. */
@@ -647,7 +641,7 @@ public final class EquationBench {
             }
         }
 
-        /** Whether the nearest decimal with so many digits, 0 or more, lies above; of two as near the even one counts. */
+        /** Whether the nearest decimal with so many digits lies above; of two as near it is the even one. */
         private boolean isRoundedUp(int kept) {
             if (kept >= digits) {
                 return false;
@@ -1098,7 +1092,7 @@ public final class EquationBench {
         /** Of each instruction: what it does, its token, and two numbers more. */
         private int[] code = new int[256];
         private int size;
-        /** Of each function: its name, where it begins, its first parameter's token, how many, and its results likewise. */
+        /** Of each function: its name, its begin, its first parameter's token, how many, its results likewise. */
         private int[] head = new int[24];
         private int functions;
         private int[] functionOf = new int[128];
@@ -1136,6 +1130,14 @@ public final class EquationBench {
 
         int spotOf(int token) {
             return token < 0 || token > tokens ? NONE : spot[token];
+        }
+
+        int valueOf(int token) {
+            return token < 0 || token >= tokens ? NONE : value[token];
+        }
+
+        double numeralOf(int token) {
+            return token < 0 || token >= tokens ? 0 : numeral[token];
         }
 
         int kindOf(int token) {
@@ -1376,15 +1378,15 @@ public final class EquationBench {
                 case T_BREAK: case T_CONTINUE: return leaveLoop(kind);
                 case T_RETURN: return returnStatement();
                 case T_FUNCTION: return blocks == 0 && openFunction();
-                case T_SQUARE: return squareStatement();
+                case T_SQUARE: return findTargets() ? openTargets() : plainStatement() && want(kind);
                 case T_PRINT: case T_SHOW: return printStatement();
-                default: return plainStatement(kind);
+                default: return plainStatement() && want(kind);
             }
         }
 
-        private boolean plainStatement(int kind) {
+        private boolean plainStatement() {
             p.emit(I_STEP, at, 0, 0);
-            return pushBracket(X_STATEMENT, S_WANT) && want(kind);
+            return pushBracket(X_STATEMENT, S_WANT);
         }
 
         private boolean printStatement() {
@@ -1398,11 +1400,8 @@ public final class EquationBench {
             return goOn(S_SEMICOLON);
         }
 
-        /** A statement that begins with '[' gives several names values, or it is an expression. */
-        private boolean squareStatement() {
-            if (levels >= MOST_LEVELS) {
-                return false;
-            }
+        /** Whether the '[' begins a statement that gives names values; otherwise an expression begins. */
+        private boolean findTargets() {
             int next = at + 1;
             int targets = 0;
             boolean open = true;
@@ -1412,14 +1411,16 @@ public final class EquationBench {
                 next += open ? 2 : 1;
             }
             boolean closed = !open && p.kindOf(next) == T_UNSQUARE;
-            if (!closed || p.kindOf(next + 1) != T_IS) {
-                floor = closed ? next + 1 : next;
-                return plainStatement(T_SQUARE);
-            }
-            p.emit(I_STEP, at, 0, 0);
             result = at + 1;
             results = targets;
-            at = next + 1;
+            floor = levels >= MOST_LEVELS ? at : closed ? next + 1 : next;
+            return closed && p.kindOf(next + 1) == T_IS && levels < MOST_LEVELS;
+        }
+
+        /** Goes on behind the '='; what stands before it was looked at. */
+        private boolean openTargets() {
+            p.emit(I_STEP, at, 0, 0);
+            at = floor;
             return goOn(S_CALL_NAME);
         }
 
@@ -1567,7 +1568,8 @@ public final class EquationBench {
         private boolean header(int kind) {
             switch (state) {
                 case S_HEAD: return kind == T_SQUARE ? squareResults() : kind == T_NAME && headNamed();
-                case S_HEAD_NAMED: return kind == T_IS ? oneResult() : kind == T_ROUND && isNewFunction(named) && openHead();
+                case S_HEAD_NAMED:
+                    return kind == T_IS ? oneResult() : kind == T_ROUND && isNewFunction(named) && openHead();
                 case S_RESULT: return kind == T_NAME && addResult();
                 case S_BEHIND_RESULT: return kind == T_COMMA ? nextResult() : kind == T_UNSQUARE && goOn(S_HEAD_IS);
                 case S_HEAD_IS: return kind == T_IS && goOn(S_HEAD_NAME);
@@ -1575,7 +1577,8 @@ public final class EquationBench {
                 case S_HEAD_OPEN: return kind == T_ROUND && openHead();
                 case S_FIRST_PARAMETER: return kind == T_UNROUND ? beginFunction() : kind == T_NAME && addParameter();
                 case S_PARAMETER: return kind == T_NAME && addParameter();
-                case S_BEHIND_PARAMETER: return kind == T_COMMA ? nextParameter() : kind == T_UNROUND && beginFunction();
+                case S_BEHIND_PARAMETER:
+                    return kind == T_COMMA ? nextParameter() : kind == T_UNROUND && beginFunction();
                 default: return false;
             }
         }
@@ -1609,7 +1612,7 @@ public final class EquationBench {
         }
 
         private boolean isNewFunction(int token) {
-            return p.functionNamed(p.value[token]) == NONE;
+            return p.functionNamed(p.valueOf(token)) == NONE;
         }
 
         private boolean functionName() {
@@ -1638,7 +1641,7 @@ public final class EquationBench {
         /** Whether the NAME is one of so many that begin at that token, with commas between. */
         private boolean isAmong(int token, int first, int count) {
             for (int i = 0; i < count; i++) {
-                if (p.value[first + 2 * i] == p.value[token]) {
+                if (p.valueOf(first + 2 * i) == p.valueOf(token)) {
                     return true;
                 }
             }
@@ -1648,7 +1651,7 @@ public final class EquationBench {
         private boolean beginFunction() {
             pushBlock(B_FUNCTION);
             setBlock(PENDING, p.emit(I_JUMP, at, 0, 0));
-            p.addFunction(p.value[named], parameter, parameters, result, results);
+            p.addFunction(p.valueOf(named), parameter, parameters, result, results);
             return goOn(S_STATEMENT);
         }
 
@@ -2246,7 +2249,7 @@ public final class EquationBench {
         private static final int HIGH = 3;
         private static final int WIDE = 4;
         private static final int START = 5;
-        /** Of each value: its name, the cell of this name's next lower frame, whether it is a text, its shape, its start. */
+        /** Of each value: its name, this name's cell in a lower frame, whether it is a text, its shape, its start. */
         private int[] cell = new int[32 * CELL];
         private int cells;
         /** By name: the cell of its highest frame, and 1 more. */
@@ -2283,7 +2286,7 @@ public final class EquationBench {
         }
 
         int countOf(int c) {
-            return highOf(c) * wideOf(c);
+            return cell[c * CELL + HIGH] * cell[c * CELL + WIDE];
         }
 
         void copy(int c, Value v) {
@@ -2472,17 +2475,12 @@ public final class EquationBench {
             }
         }
 
-        /** What waits there comes as show writes it. */
-        void showValue(Stack stack, int i) {
-            if (stack.text[i]) {
-                putText(stack.data, stack.start[i], stack.countOf(i));
-                put((char) 10);
-            } else {
-                showMatrix(stack.data, stack.start[i], stack.high[i], stack.wide[i]);
-            }
-        }
-
-        private void showMatrix(double[] data, int start, int high, int wide) {
+        /** The matrix that waits there comes in its LINES. */
+        void showMatrix(Stack stack, int value) {
+            double[] data = stack.data;
+            int start = stack.start[value];
+            int high = stack.high[value];
+            int wide = stack.wide[value];
             int room = places.length;
             for (int i = 0; i < 20 && room < wide; i++) {
                 room = room * 2;
@@ -2535,8 +2533,10 @@ public final class EquationBench {
         }
 
         private void addDigit(int i) {
-            int d = i >= 0 && i < decimal.digits ? decimal.digit[i] : 0;
-            add((char) ('0' + d));
+            if (lineLength < line.length) {
+                line[lineLength] = (char) ('0' + (i >= 0 && i < decimal.digits ? decimal.digit[i] : 0));
+                lineLength++;
+            }
         }
 
         /** The number with so many places behind the point, or with five digits if these are NONE. */
@@ -2652,7 +2652,7 @@ public final class EquationBench {
         }
     }
 
-    /** Operations and bench functions but for those that solve: what is wrong with their values, their cost, their work. */
+    /** Operations and bench functions but for those that solve: what is wrong with their values, cost, work. */
     private static final class Functions {
         private static final int M_EACH = 0;
         private static final int M_TEXTS = 1;
@@ -2683,10 +2683,6 @@ public final class EquationBench {
             }
             cost = (int) (high * wide) / 32;
             return 0;
-        }
-
-        private int shapeOf(Value v) {
-            return shapeOf(v.high, v.wide);
         }
 
         // Operations of two.
@@ -2722,10 +2718,10 @@ public final class EquationBench {
             Value x = in[0];
             Value y = in[1];
             if (x.isNumber()) {
-                return shapeOf(y);
+                return shapeOf(y.high, y.wide);
             }
             boolean fits = y.isNumber() || x.high == y.high && x.wide == y.wide;
-            return fits ? shapeOf(x) : BAD_SHAPE;
+            return fits ? shapeOf(x.high, x.wide) : BAD_SHAPE;
         }
 
         private int checkEachPower() {
@@ -2857,7 +2853,7 @@ public final class EquationBench {
             if (in[0].text) {
                 return BAD_KIND;
             }
-            return kind == T_QUOTE ? shapeOf(in[0].wide, in[0].high) : shapeOf(in[0]);
+            return kind == T_QUOTE ? shapeOf(in[0].wide, in[0].high) : shapeOf(in[0].high, in[0].wide);
         }
 
         void workOne(int kind) {
@@ -2933,9 +2929,9 @@ public final class EquationBench {
                 case F_MIN: case F_MAX:
                     return x.count() == 0 ? BAD_SHAPE : 0;
                 case F_CUMSUM: case F_ABS: case F_FLOOR: case F_CEIL: case F_ROUND: case F_SIGN:
-                    return shapeOf(x);
+                    return shapeOf(x.high, x.wide);
                 case F_SQRT:
-                    return hasBelowZero(x) ? BAD_DOMAIN : shapeOf(x);
+                    return hasBelowZero(x) ? BAD_DOMAIN : shapeOf(x.high, x.wide);
                 case F_MOD:
                     return checkEach();
                 case F_DOT:
@@ -2943,7 +2939,7 @@ public final class EquationBench {
                 case F_FIND:
                     return shapeOf(countFound(x), 1);
                 case F_SORT:
-                    shapeOf(x);
+                    shapeOf(x.high, x.wide);
                     cost = cost * 32;
                     return 0;
                 case F_TEXT:
@@ -3017,15 +3013,19 @@ public final class EquationBench {
                 case F_TRACE:
                     return 0;
                 case F_DIAG:
-                    return x.high == 1 || x.wide == 1 ? shapeOf(x.count(), x.count()) : shapeOf(Math.min(x.high, x.wide), 1);
+                    boolean builds = x.high == 1 || x.wide == 1;
+                    return builds ? shapeOf(x.count(), x.count()) : shapeOf(Math.min(x.high, x.wide), 1);
                 case F_RESHAPE:
                     bad = checkWhole(1, 2);
-                    return bad != 0 ? bad : (long) wholeOf(1) * wholeOf(2) == x.count() ? shapeOf(wholeOf(1), wholeOf(2)) : BAD_SHAPE;
+                    if (bad == 0 && (long) wholeOf(1) * wholeOf(2) != x.count()) {
+                        bad = BAD_SHAPE;
+                    }
+                    return bad != 0 ? bad : shapeOf(wholeOf(1), wholeOf(2));
                 case F_REPEAT:
                     bad = checkWhole(1, 2);
                     return bad != 0 ? bad : shapeOf((long) x.high * wholeOf(1), (long) x.wide * wholeOf(2));
                 default:
-                    return shapeOf(x);
+                    return shapeOf(x.high, x.wide);
             }
         }
 
@@ -3095,7 +3095,8 @@ public final class EquationBench {
                 case F_SORT:
                     workSort();
                     return 0;
-                case F_ZEROS: case F_ONES: case F_EYE: case F_KRON: case F_DIAG: case F_TRIL: case F_TRIU: case F_RESHAPE: case F_REPEAT:
+                case F_ZEROS: case F_ONES: case F_EYE: case F_KRON: case F_DIAG: case F_TRIL: case F_TRIU:
+                case F_RESHAPE: case F_REPEAT:
                     return workBuilding(f);
                 default:
                     workSingle(f);
@@ -3125,9 +3126,10 @@ public final class EquationBench {
             int n = x.count();
             switch (f) {
                 case F_SUM:
-                    boolean columns = arguments == 2 && in[1].data[0] == 1;
-                    boolean lines = arguments == 2 && !columns;
-                    return columns ? sums(x.wide, 1, x.wide, x.high) : lines ? sums(x.high, x.wide, 1, x.wide) : sums(1, n, 1, n);
+                    if (arguments == 1) {
+                        return sums(1, n, 1, n);
+                    }
+                    return in[1].data[0] == 1 ? sums(x.wide, 1, x.wide, x.high) : sums(x.high, x.wide, 1, x.wide);
                 case F_PROD:
                     return workProduct();
                 case F_DOT:
@@ -3396,13 +3398,14 @@ public final class EquationBench {
         }
 
         private void watch(double result, double x, double y) {
-            if (sizeOf(result) < 2.2250738585072014E-308 && x != 0 && y != 0) {
+            double least = 2.2250738585072014E-308;
+            if (result < least && result > -least && x != 0 && y != 0) {
                 tiny = true;
             }
         }
 
         /** a becomes the factors of x, n by n: l below its diagonal, u from the diagonal on. */
-        private int factor(Value x) {
+        int factor(Value x) {
             a.copyOf(x);
             int n = a.high;
             swaps = 0;
@@ -3468,7 +3471,7 @@ public final class EquationBench {
         }
 
         /** z becomes the solution with y of what was factored. */
-        private int solve(Value y, Value z) {
+        int solve(Value y, Value z) {
             int n = a.high;
             z.shape(false, n, y.wide);
             for (int c = 0; c < y.wide; c++) {
@@ -3522,18 +3525,9 @@ public final class EquationBench {
             return 0;
         }
 
-        /** z becomes the solution of x with y. */
-        int divide(Value x, Value y, Value z) {
-            if (x.high > x.wide) {
-                return fit(x, y, z);
-            }
-            int bad = factor(x);
-            return bad != 0 ? bad : solve(y, z);
-        }
-
-        /** The solution of more rows than columns. */
-        private int fit(Value x, Value y, Value z) {
-            int bad = reduce(x);
+        /** z becomes the solution with y of x, which has more rows than columns and was reduced. */
+        int fit(Value x, Value y, Value z) {
+            int bad = 0;
             int n = x.high;
             other.shape(false, n, y.wide);
             for (int i = 0; i < n && bad == 0; i++) {
@@ -3568,7 +3562,7 @@ public final class EquationBench {
         }
 
         /** a becomes r of x, q becomes q. */
-        private int reduce(Value x) {
+        int reduce(Value x) {
             a.copyOf(x);
             q.becomeUnit(x.high);
             int bad = 0;
@@ -3738,7 +3732,8 @@ public final class EquationBench {
             for (int i = 0; i < a.high; i++) {
                 for (int j = i + 1; j < a.high && bad == 0; j++) {
                     double size = sizeOf(at(i, j));
-                    if (size <= 5.551115123125783E-17 * sizeOf(at(i, i)) && size <= 5.551115123125783E-17 * sizeOf(at(j, j))) {
+                    double part = 5.551115123125783E-17;
+                    if (size <= part * sizeOf(at(i, i)) && size <= part * sizeOf(at(j, j))) {
                         set(i, j, 0);
                         set(j, i, 0);
                     } else if (size > 0) {
@@ -3817,7 +3812,10 @@ public final class EquationBench {
         // The exact look at a solution.
 
         int proved(boolean looks) {
-            int bad = divide(in[0], in[1], res[0]);
+            int bad = factor(in[0]);
+            if (bad == 0) {
+                bad = solve(in[1], res[0]);
+            }
             if (bad == 0 && looks) {
                 res[1].becomeNumber(tiny ? 2 : isProved(in[0], in[1], res[0]) ? 1 : 0);
             }
@@ -3944,7 +3942,7 @@ public final class EquationBench {
         private final Value[] res = { new Value(), new Value(), new Value() };
         private final Functions bench = new Functions(in, res);
         private final Solver solver = new Solver(in, res);
-        /** Of each call: where it goes on, what it is asked for, its token, its function, the tries and values below. */
+        /** Of each call: where it goes on, what it is asked for, its token, its function, tries and values below. */
         private final int[] frames = new int[(MOST_FRAMES + 1) * FRAME];
         /** Of each try: where its catch is, its frame, the values below. */
         private int[] tries = new int[16 * TRY];
@@ -3955,8 +3953,8 @@ public final class EquationBench {
         private int fault;
         private int spot;
         private int caught;
-        /** A call that begins when the instruction is over: its token, NONE for none; its arguments and what it is asked for. */
-        private int calling;
+        /** Whether a call begins when the instruction is over; its arguments and how many results it is asked for. */
+        private boolean calling;
         private int arguments;
         private int asked;
 
@@ -3965,15 +3963,19 @@ public final class EquationBench {
             printer = output;
         }
 
-        /** Runs the program: 0, or the fault. */
-        int go(Program program, int given) {
+        private void prepare(Program program, int given) {
             p = program;
             fuel = given;
             next = 0;
             fault = 0;
             caught = 0;
             tried = 0;
-            calling = NONE;
+            calling = false;
+        }
+
+        /** Runs the program: 0, or the fault. */
+        int go(Program program, int given) {
+            prepare(program, given);
             for (long step = 0; step < MOST_STEPS && next >= 0 && next < p.size; step++) {
                 int i = next;
                 int token = p.tokenOf(i);
@@ -3991,7 +3993,7 @@ public final class EquationBench {
                     case I_COLON: colon(token, a); break;
                     case I_END: endOf(token, a, b); break;
                     case I_CLOSE: close(token, a); break;
-                    case I_CLOSE_CALL: call(token, p.first(a), p.second(a)); break;
+                    case I_CLOSE_CALL: call(p.first(a), p.second(a)); break;
                     case I_WRITE: write(token, a, b); break;
                     case I_STORE: keep(token, 1); stack.drop(1); break;
                     case I_DROP: stack.drop(a); break;
@@ -4014,9 +4016,12 @@ public final class EquationBench {
                     case I_NOTHING: nothing(token); break;
                     default: giveBack(); break;
                 }
-                if (calling != NONE) {
-                    begin();
+                if (calling && p.functionNamed(p.valueOf(token)) != NONE) {
+                    enter(token, p.functionNamed(p.valueOf(token)));
+                } else if (calling) {
+                    callBench(token, p.valueOf(token) - FIRST_FUNCTION);
                 }
+                calling = false;
                 if (fault != 0) {
                     fall();
                 }
@@ -4069,14 +4074,14 @@ public final class EquationBench {
 
         private void numeral(int token) {
             if (take(1, token)) {
-                pushNumber(p.numeral[token], token);
+                pushNumber(p.numeralOf(token), token);
             }
         }
 
         private void text(int token) {
             if (take(1, token)) {
                 Value v = res[0];
-                v.shape(true, 1, p.value[token]);
+                v.shape(true, 1, p.valueOf(token));
                 for (int i = 0; i < v.wide; i++) {
                     v.data[i] = p.text[p.spot[token] + 1 + i];
                 }
@@ -4085,10 +4090,10 @@ public final class EquationBench {
         }
 
         private void name(int token, int wanted) {
-            int cell = store.find(p.value[token]);
+            int cell = store.find(p.valueOf(token));
             if (cell == NONE) {
                 if (mayCall(token, 0, wanted)) {
-                    call(token, 0, wanted);
+                    call(0, wanted);
                 }
                 return;
             }
@@ -4107,7 +4112,7 @@ public final class EquationBench {
         }
 
         private void open(int token, int count, int wanted) {
-            int cell = store.find(p.value[token]);
+            int cell = store.find(p.valueOf(token));
             if (cell == NONE) {
                 mayCall(token, count, wanted);
             } else if (store.isText(cell)) {
@@ -4118,21 +4123,21 @@ public final class EquationBench {
         }
 
         private void openPart(int token) {
-            int cell = store.find(p.value[token]);
+            int cell = store.find(p.valueOf(token));
             if (cell != NONE && store.isText(cell)) {
                 fail(BAD_KIND, token + 1);
             }
         }
 
         private void colon(int token, int open) {
-            boolean part = p.what(open) == I_OPEN_PART || store.find(p.value[p.tokenOf(open)]) != NONE;
+            boolean part = p.what(open) == I_OPEN_PART || store.find(p.valueOf(p.tokenOf(open))) != NONE;
             if (!part) {
                 fail(BAD_KIND, token);
             }
         }
 
         private void endOf(int token, int open, int argument) {
-            int cell = store.find(p.value[p.tokenOf(open)]);
+            int cell = store.find(p.valueOf(p.tokenOf(open)));
             if (cell == NONE && p.what(open) != I_OPEN_PART) {
                 fail(BAD_NAME, token);
                 return;
@@ -4146,9 +4151,9 @@ public final class EquationBench {
 
         private void close(int token, int open) {
             int wanted = p.second(open) & 1;
-            int cell = store.find(p.value[token]);
+            int cell = store.find(p.valueOf(token));
             if (cell == NONE) {
-                call(token, p.first(open), wanted);
+                call(p.first(open), wanted);
             } else {
                 readPart(token + 1, cell, p.first(open), p.second(open) >> 4, wanted);
             }
@@ -4221,7 +4226,7 @@ public final class EquationBench {
         private void write(int token, int open, int is) {
             int count = p.first(open);
             int colons = p.second(open) >> 4;
-            int cell = store.find(p.value[token]);
+            int cell = store.find(p.valueOf(token));
             int high = cell == NONE ? 0 : store.highOf(cell);
             int wide = cell == NONE ? 0 : store.wideOf(cell);
             stack.pop(in[2]);
@@ -4322,7 +4327,7 @@ public final class EquationBench {
                 System.arraycopy(store.data, store.startOf(cell) + i * wide, z.data, i * z.wide, wide);
             }
             scatter(z.data, 0, z.wide, count);
-            if (!store.putValue(p.value[token], z)) {
+            if (!store.putValue(p.valueOf(token), z)) {
                 fail(BAD_MEMORY, token);
             }
         }
@@ -4342,7 +4347,7 @@ public final class EquationBench {
 
         private void keep(int token, int above) {
             int i = stack.size - above;
-            if (i >= 0 && !store.putWaiting(p.value[token], stack, i)) {
+            if (i >= 0 && !store.putWaiting(p.valueOf(token), stack, i)) {
                 fail(BAD_MEMORY, token);
             }
         }
@@ -4350,45 +4355,61 @@ public final class EquationBench {
         // Operations.
 
         private void pair(int token) {
-            int kind = p.kind[token];
+            int kind = p.kindOf(token);
             stack.pop(in[1]);
             stack.pop(in[0]);
             int bad = bench.checkPair(kind);
-            if (bad == 0 && take(1 + bench.cost, token)) {
-                bad = workPair(kind, token);
-                if (bad == 0) {
-                    push(res[0], token);
-                }
-            }
             if (bad != 0) {
                 fail(bad, token);
+                return;
             }
-        }
-
-        private int workPair(int kind, int token) {
+            if (!take(1 + bench.cost, token)) {
+                return;
+            }
             switch (bench.mode) {
                 case Functions.M_TEXTS:
                     bench.workTexts(kind);
-                    return 0;
+                    break;
                 case Functions.M_PRODUCT:
-                    return bench.product(in[0], in[1], res[0]);
+                    bad = bench.product(in[0], in[1], res[0]);
+                    break;
                 case Functions.M_DIVIDE:
-                    return solver.divide(in[0], in[1], res[0]);
+                    bad = divide(in[0], in[1], res[0]);
+                    break;
                 case Functions.M_DIVIDE_BACK:
-                    return divideBack();
+                    res[1].becomeTransposed(in[1]);
+                    res[2].becomeTransposed(in[0]);
+                    bad = divide(res[1], res[2], in[2]);
+                    res[0].becomeTransposed(in[2]);
+                    break;
                 case Functions.M_POWER:
-                    return power(token);
+                    bad = power(token);
+                    break;
                 default:
-                    return bench.workEach(kind);
+                    bad = bench.workEach(kind);
+                    break;
+            }
+            finish(bad, token, 1);
+        }
+
+        /** The first results wait, if nothing is wrong. */
+        private void finish(int bad, int token, int count) {
+            if (bad != 0) {
+                fail(bad, token);
+            }
+            for (int i = 0; i < count && fault == 0; i++) {
+                push(res[i], token);
             }
         }
 
-        private int divideBack() {
-            res[1].becomeTransposed(in[1]);
-            res[2].becomeTransposed(in[0]);
-            int bad = solver.divide(res[1], res[2], in[2]);
-            res[0].becomeTransposed(in[2]);
-            return bad;
+        /** z becomes the solution of x with y. */
+        private int divide(Value x, Value y, Value z) {
+            boolean square = x.isSquare();
+            int bad = square ? solver.factor(x) : solver.reduce(x);
+            if (bad != 0) {
+                return bad;
+            }
+            return square ? solver.solve(y, z) : solver.fit(x, y, z);
         }
 
         private int power(int token) {
@@ -4414,7 +4435,7 @@ public final class EquationBench {
         }
 
         private void sign(int token) {
-            int kind = p.kind[token];
+            int kind = p.kindOf(token);
             stack.pop(in[0]);
             int bad = bench.checkOne(kind);
             if (bad != 0) {
@@ -4445,7 +4466,7 @@ public final class EquationBench {
 
         private void test(int token, int behind) {
             boolean yes = popTruth();
-            boolean and = p.kind[token] == T_AND;
+            boolean and = p.kindOf(token) == T_AND;
             if (take(1, token) && yes != and) {
                 pushNumber(yes ? 1 : 0, token);
                 next = behind;
@@ -4512,7 +4533,7 @@ public final class EquationBench {
                 column.data[k] = stack.data[stack.start[i] + k * stack.wide[i] + stack.turn[i]];
             }
             stack.turn[i]++;
-            if (!store.putValue(p.value[nameToken], column)) {
+            if (!store.putValue(p.valueOf(nameToken), column)) {
                 fail(BAD_MEMORY, nameToken);
             }
         }
@@ -4541,17 +4562,13 @@ public final class EquationBench {
             int before = printer.length;
             printer.full = false;
             for (int i = from; i < stack.size && !printer.full; i++) {
-                if (p.kind[token] == T_SHOW) {
-                    printer.showValue(stack, i);
+                boolean shows = p.kindOf(token) == T_SHOW;
+                if (shows && !stack.text[i]) {
+                    printer.showMatrix(stack, i);
                 } else {
-                    if (i > from) {
-                        printer.put(' ');
-                    }
                     printer.printValue(stack, i);
+                    printer.put(shows || i == stack.size - 1 ? (char) 10 : ' ');
                 }
-            }
-            if (p.kind[token] == T_PRINT) {
-                printer.put((char) 10);
             }
             if (printer.full) {
                 printer.length = before;
@@ -4564,34 +4581,23 @@ public final class EquationBench {
 
         /** Whether the NAME can be called with so many arguments and be asked for so much. */
         private boolean mayCall(int token, int count, int wanted) {
-            int function = p.functionNamed(p.value[token]);
+            int function = p.functionNamed(p.valueOf(token));
             if (function != NONE) {
                 boolean fits = wanted <= p.resultsOf(function) && count <= p.parametersOf(function);
                 return fits || fail(BAD_COUNT, token);
             }
-            int f = p.value[token] - FIRST_FUNCTION;
+            int f = p.valueOf(token) - FIRST_FUNCTION;
             if (f < 0 || f >= FUNCTION_COUNT) {
                 return fail(BAD_NAME, token);
             }
-            boolean fits = count >= CALLED_WITH[3 * f] && count <= CALLED_WITH[3 * f + 1] && wanted <= CALLED_WITH[3 * f + 2];
-            return fits || fail(BAD_COUNT, token);
+            boolean fits = count >= CALLED_WITH[3 * f] && count <= CALLED_WITH[3 * f + 1];
+            return fits && wanted <= CALLED_WITH[3 * f + 2] || fail(BAD_COUNT, token);
         }
 
-        private void call(int token, int count, int wanted) {
-            calling = token;
+        private void call(int count, int wanted) {
+            calling = true;
             arguments = count;
             asked = wanted;
-        }
-
-        private void begin() {
-            int token = calling;
-            calling = NONE;
-            int function = p.functionNamed(p.value[token]);
-            if (function != NONE) {
-                enter(token, function);
-            } else {
-                callBench(token, p.value[token] - FIRST_FUNCTION);
-            }
         }
 
         private void enter(int token, int function) {
@@ -4655,37 +4661,27 @@ public final class EquationBench {
             int bad = bench.check(f, arguments);
             if (bad == 0 && f == F_ERROR) {
                 bad = BAD_CALLED;
-            } else if (bad == 0 && !take(1 + bench.cost, token)) {
-                return;
-            } else if (bad == 0) {
-                bad = workBench(token, f);
             }
             if (bad != 0) {
                 fail(bad, token);
                 return;
             }
-            for (int i = 0; i < asked && fault == 0; i++) {
-                push(res[i], token);
+            if (!take(1 + bench.cost, token)) {
+                return;
             }
-        }
-
-        private int workBench(int token, int f) {
             switch (f) {
-                case F_LU: return solver.lu();
-                case F_DET: return solver.det();
-                case F_INV: return solver.inv();
-                case F_CHOL: return solver.chol();
-                case F_QR: return solver.qr();
-                case F_EIG: return turns(token);
-                case F_PROVED: return solver.proved(asked > 1);
-                case F_TEXT:
-                    writeBrief(in[0].data[0]);
-                    return 0;
-                case F_FAULT:
-                    res[0].becomeNumber(caught);
-                    return 0;
-                default: return bench.work(f, arguments);
+                case F_LU: bad = solver.lu(); break;
+                case F_DET: bad = solver.det(); break;
+                case F_INV: bad = solver.inv(); break;
+                case F_CHOL: bad = solver.chol(); break;
+                case F_QR: bad = solver.qr(); break;
+                case F_EIG: bad = turns(token); break;
+                case F_PROVED: bad = solver.proved(asked > 1); break;
+                case F_TEXT: writeBrief(in[0].data[0]); break;
+                case F_FAULT: res[0].becomeNumber(caught); break;
+                default: bad = bench.work(f, arguments); break;
             }
+            finish(bad, token, asked);
         }
 
         private void writeBrief(double number) {
