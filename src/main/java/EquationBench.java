@@ -381,6 +381,10 @@ public final class EquationBench {
             rest -= 256;
         }
         double factor = 1.0;
+        for (int i = 0; i < 16 && rest >= 16; i++) {
+            factor = factor * 65536.0;
+            rest -= 16;
+        }
         for (int i = 0; i < rest; i++) {
             factor = factor * 2.0;
         }
@@ -1157,32 +1161,42 @@ public final class EquationBench {
             return size - 1;
         }
 
+        private int codeAt(int i, int part) {
+            return i < 0 || i >= size ? NONE : code[i * CODE + part];
+        }
+
         int what(int i) {
-            return code[i * CODE];
+            return codeAt(i, 0);
         }
 
         int tokenOf(int i) {
-            return code[i * CODE + 1];
+            return codeAt(i, 1);
         }
 
         int first(int i) {
-            return code[i * CODE + 2];
+            return codeAt(i, 2);
         }
 
         int second(int i) {
-            return code[i * CODE + 3];
+            return codeAt(i, 3);
         }
 
         void setWhat(int i, int what) {
-            code[i * CODE] = what;
+            if (i >= 0 && i < size) {
+                code[i * CODE] = what;
+            }
         }
 
         void setFirst(int i, int a) {
-            code[i * CODE + 2] = a;
+            if (i >= 0 && i < size) {
+                code[i * CODE + 2] = a;
+            }
         }
 
         void setSecond(int i, int b) {
-            code[i * CODE + 3] = b;
+            if (i >= 0 && i < size) {
+                code[i * CODE + 3] = b;
+            }
         }
 
         void addFunction(int name, int parameter, int parameters, int result, int results) {
@@ -1197,7 +1211,9 @@ public final class EquationBench {
             head[at + 4] = result;
             head[at + 5] = results;
             functions++;
-            functionOf[name] = functions;
+            if (name >= 0 && name < functionOf.length) {
+                functionOf[name] = functions;
+            }
         }
 
         /** The number of the text's function with that name, NONE if there is none. */
@@ -1205,25 +1221,29 @@ public final class EquationBench {
             return name < 0 || name >= functionOf.length ? NONE : functionOf[name] - 1;
         }
 
+        private int headAt(int function, int part) {
+            return function < 0 || function >= functions ? NONE : head[function * HEAD + part];
+        }
+
         int entryOf(int function) {
-            return head[function * HEAD + 1];
+            return headAt(function, 1);
         }
 
         int parametersOf(int function) {
-            return head[function * HEAD + 3];
+            return headAt(function, 3);
         }
 
         int resultsOf(int function) {
-            return head[function * HEAD + 5];
+            return headAt(function, 5);
         }
 
         /** The name of parameter i, from 0; a comma stands between two. */
         int parameterName(int function, int i) {
-            return value[head[function * HEAD + 2] + 2 * i];
+            return valueOf(headAt(function, 2) + 2 * i);
         }
 
         int resultName(int function, int i) {
-            return value[head[function * HEAD + 4] + 2 * i];
+            return valueOf(headAt(function, 4) + 2 * i);
         }
     }
 
@@ -1434,7 +1454,7 @@ public final class EquationBench {
         }
 
         private boolean forName() {
-            bracket[(brackets - 1) * BRACKET + TOKEN] = at;
+            setBracket(TOKEN, at);
             return goOn(S_FOR_IS);
         }
 
@@ -1471,7 +1491,9 @@ public final class EquationBench {
         }
 
         private void setBlock(int what, int number) {
-            block[(blocks - 1) * BLOCK + what] = number;
+            if (blocks > 0) {
+                block[(blocks - 1) * BLOCK + what] = number;
+            }
         }
 
         /** The jump there goes to the end of the block, once that is known; till then these jumps are a chain. */
@@ -1693,7 +1715,9 @@ public final class EquationBench {
         }
 
         private void setBracket(int what, int number) {
-            bracket[(brackets - 1) * BRACKET + what] = number;
+            if (brackets > 0) {
+                bracket[(brackets - 1) * BRACKET + what] = number;
+            }
         }
 
         private boolean want(int kind) {
@@ -2126,19 +2150,15 @@ public final class EquationBench {
         }
 
         int countOf(int i) {
-            return start[i + 1] - start[i];
-        }
-
-        int countOnTop() {
-            return size == 0 ? 0 : countOf(size - 1);
+            return i < 0 || i >= size ? 0 : start[i + 1] - start[i];
         }
 
         boolean isBare(int i) {
-            return !text[i] && countOf(i) == 0;
+            return i >= 0 && i < size && !text[i] && start[i + 1] == start[i];
         }
 
         boolean isTrue(int i) {
-            if (text[i] || countOf(i) == 0) {
+            if (i < 0 || i >= size || text[i] || start[i + 1] == start[i]) {
                 return false;
             }
             for (int k = start[i]; k < start[i + 1]; k++) {
@@ -2151,7 +2171,7 @@ public final class EquationBench {
 
         /** What is without numbers is left out of a row, whatever its shape. */
         void levelTop() {
-            if (size > 0 && isBare(size - 1)) {
+            if (isBare(size - 1)) {
                 high[size - 1] = 0;
                 wide[size - 1] = 0;
             }
@@ -2269,24 +2289,28 @@ public final class EquationBench {
             return newest[name] - 1;
         }
 
+        private int cellAt(int c, int part) {
+            return c < 0 || c >= cells ? 0 : cell[c * CELL + part];
+        }
+
         boolean isText(int c) {
-            return cell[c * CELL + TEXT] != 0;
+            return cellAt(c, TEXT) != 0;
         }
 
         int highOf(int c) {
-            return cell[c * CELL + HIGH];
+            return cellAt(c, HIGH);
         }
 
         int wideOf(int c) {
-            return cell[c * CELL + WIDE];
+            return cellAt(c, WIDE);
         }
 
         int startOf(int c) {
-            return cell[c * CELL + START];
+            return cellAt(c, START);
         }
 
         int countOf(int c) {
-            return cell[c * CELL + HIGH] * cell[c * CELL + WIDE];
+            return c < 0 || c >= cells ? 0 : cell[c * CELL + HIGH] * cell[c * CELL + WIDE];
         }
 
         void copy(int c, Value v) {
@@ -2365,9 +2389,10 @@ public final class EquationBench {
             }
             int to = 0;
             for (int c = 0; c < cells; c++) {
-                System.arraycopy(data, startOf(c), spare, to, countOf(c));
+                int length = countOf(c);
+                System.arraycopy(data, cell[c * CELL + START], spare, to, length);
                 cell[c * CELL + START] = to;
-                to += countOf(c);
+                to += length;
             }
             double[] former = data;
             data = spare;
@@ -2392,9 +2417,9 @@ public final class EquationBench {
 
         private void forgetFrom(int lowest) {
             while (cells > lowest) {
+                kept -= countOf(cells - 1);
                 cells--;
                 newest[cell[cells * CELL]] = cell[cells * CELL + OLDER];
-                kept -= countOf(cells);
             }
         }
 
@@ -3311,12 +3336,23 @@ public final class EquationBench {
                     System.arraycopy(x.data, 0, z.data, 0, z.count());
                     return 0;
                 case F_REPEAT:
-                    for (int k = 0; k < z.count() && x.count() > 0; k++) {
-                        z.data[k] = x.data[k / z.wide % x.high * x.wide + k % z.wide % x.wide];
-                    }
+                    workRepeated();
                     return 0;
                 default:
                     return 0;
+            }
+        }
+
+        private void workRepeated() {
+            Value x = in[0];
+            Value z = res[0];
+            if (x.high == 0 || x.wide == 0) {
+                return;
+            }
+            for (int i = 0; i < z.high; i++) {
+                for (int j = 0; j < z.wide; j++) {
+                    z.data[i * z.wide + j] = x.data[i % x.high * x.wide + j % x.wide];
+                }
             }
         }
 
@@ -3324,15 +3360,17 @@ public final class EquationBench {
             Value x = in[0];
             Value y = in[1];
             Value z = res[0];
-            for (int i = 0; i < x.count(); i++) {
-                for (int k = 0; k < y.count(); k++) {
-                    double product = x.data[i] * y.data[k];
+            if (y.high == 0 || y.wide == 0) {
+                return 0;
+            }
+            for (int i = 0; i < z.high; i++) {
+                for (int j = 0; j < z.wide; j++) {
+                    double block = x.data[i / y.high * x.wide + j / y.wide];
+                    double product = block * y.data[i % y.high * y.wide + j % y.wide];
                     if (!isFinite(product)) {
                         return BAD_RANGE;
                     }
-                    int row = i / x.wide * y.high + k / y.wide;
-                    int column = i % x.wide * y.wide + k % y.wide;
-                    z.data[row * z.wide + column] = product;
+                    z.data[i * z.wide + j] = product;
                 }
             }
             return 0;
@@ -4012,7 +4050,7 @@ public final class EquationBench {
                     case I_PRINT: print(token, a); break;
                     case I_VALUE: joinValue(token, a == 1); break;
                     case I_ROW: joinRow(token, a == 1); break;
-                    case I_SQUARE: take(stack.countOnTop() / 32, token); break;
+                    case I_SQUARE: take(stack.countOf(stack.size - 1) / 32, token); break;
                     case I_NOTHING: nothing(token); break;
                     default: giveBack(); break;
                 }
@@ -4081,9 +4119,10 @@ public final class EquationBench {
         private void text(int token) {
             if (take(1, token)) {
                 Value v = res[0];
-                v.shape(true, 1, p.valueOf(token));
+                int start = p.spotOf(token) + 1;
+                v.shape(true, 1, Math.max(Math.min(p.valueOf(token), p.length - start), 0));
                 for (int i = 0; i < v.wide; i++) {
-                    v.data[i] = p.text[p.spot[token] + 1 + i];
+                    v.data[i] = p.text[start + i];
                 }
                 push(v, token);
             }
@@ -4459,7 +4498,7 @@ public final class EquationBench {
         }
 
         private boolean popTruth() {
-            boolean yes = stack.size > 0 && stack.isTrue(stack.size - 1);
+            boolean yes = stack.isTrue(stack.size - 1);
             stack.drop(1);
             return yes;
         }
