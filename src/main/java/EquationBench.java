@@ -741,7 +741,8 @@ public final class EquationBench {
                 return scaled(1, 1023) * 2;
             }
             int tens = point - digits;
-            if (digits <= 15 && tens >= -22 && tens <= 22) {
+            // So few digits and so few tens are numbers themselves, and one operation rounds once.
+            if (!cutOff && digits <= 15 && tens >= -22 && tens <= 22) {
                 return nearestOfFew(tens);
             }
             int power = intoHalfToOne() - 1;

@@ -113,6 +113,19 @@ public final class OutputTest {
             desk.run("x = " + text + ";");
             Desk.same("numeral " + text, "1x1: " + Double.parseDouble(text), desk.value("x"));
         }
+        StringBuilder zeros = new StringBuilder();
+        for (int i = 0; i < 850; i++) {
+            zeros.append('0');
+        }
+        // Halfway between two numbers, and a little above that, far behind the digits that count.
+        String[] halves = { "288230376151900000", "288230376152100000", "288230376152300000", "9007199254740993" };
+        for (String half : halves) {
+            String[] both = { half + "." + zeros, half + "." + zeros + "1" };
+            for (String text : both) {
+                desk.run("x = " + text + ";");
+                Desk.same("numeral " + text, "1x1: " + Double.parseDouble(text), desk.value("x"));
+            }
+        }
     }
 
     private static void lines() {
