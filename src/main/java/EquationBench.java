@@ -3574,9 +3574,6 @@ public final class EquationBench {
                     bad = turnedBack(i, c, y);
                 }
             }
-            for (int i = 0; i < x.wide && bad == 0; i++) {
-                bad = at(i, i) == 0 ? BAD_SINGULAR : 0;
-            }
             z.shape(false, x.wide, y.wide);
             for (int c = 0; c < y.wide && bad == 0; c++) {
                 for (int i = 0; i < x.wide; i++) {
