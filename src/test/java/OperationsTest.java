@@ -270,6 +270,26 @@ public final class OperationsTest {
         fails("proved([1, 1; 1, 1], [1; 2])", 9, 0);
     }
 
+    /** The going up by r tells of the fault that it comes to first: row m's before row 1's, column 1's before 2's. */
+    private static void goingUp() {
+        fails("[0, 1; 0, 1; 0, 1] \\ [1; 1; 1]", 9, 19);
+        fails("[0, 1e-150; 0, 1e-150; 0, 1e-150] \\ [1e200; 1e200; 1e200]", 6, 34);
+        fails("[1e200, 1e200, 1e200] / [0, 0, 0; 1e-150, 1e-150, 1e-150]", 6, 22);
+        // Row 2 has 0 in the diagonal, and row 1 would not be finite.
+        fails("[1e-150, 0; 0, 0; 0, 0] \\ [1e200; 0; 0]", 9, 24);
+        fails("[0; 0] \\ [1; 1]", 9, 7);
+        // Column 1 comes to row 1 before column 2 comes to row 2, and the other way.
+        fails("[0, 1e-150; 0, 1e-150; 0, 1e-150] \\ [1, 1e200; 1, 1e200; 1, 1e200]", 9, 34);
+        fails("[0, 1e-150; 0, 1e-150; 0, 1e-150] \\ [1e200, 1; 1e200, 1; 1e200, 1]", 6, 34);
+        // What row 1 takes away is not finite, ahead of the 0 by which it would divide.
+        fails("[0, 1e300; 0, 1e-10; 0, 0] \\ [1; 1; 0]", 6, 27);
+        fails("[0, 1e297; 0, 1e-10; 0, 0] \\ [1; 1; 0]", 9, 27);
+        // What q' * y comes to stands before all looks at r.
+        fails("[0, 1; 0, 1; 0, 1] \\ [1.7e308; 1.7e308; 1.7e308]", 6, 19);
+        gives("rows([0; 0] \\ zeros(2, 0)), cols([0; 0] \\ zeros(2, 0))", "1 0\n");
+        gives("[1, 1; 1, 2; 1, 3] \\ zeros(3, 2) == zeros(2, 2)", "[1, 1; 1, 1]\n");
+    }
+
     public static void main(String[] args) {
         grouping();
         numberByNumber();
@@ -280,6 +300,7 @@ public final class OperationsTest {
         sums();
         singles();
         solving();
+        goingUp();
         Desk.finish();
     }
 }
