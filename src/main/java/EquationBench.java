@@ -2235,11 +2235,11 @@ public final class EquationBench {
         }
 
         private void joinBare(int a, int b) {
-            if (isBare(a)) {
+            if (isBare(b)) {
+                size--;
+            } else {
                 text[a] = text[b];
                 merge(a, high[b], wide[b]);
-            } else {
-                size--;
             }
         }
 
