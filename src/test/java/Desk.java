@@ -97,6 +97,42 @@ final class Desk {
         same("fault of " + text, place, new Desk().textFault(text));
     }
 
+    /** A text whose first '@' stands in front of the place of its fault. */
+    static void brokenAt(String marked) {
+        broken(unmarked(marked), marked.indexOf('@'));
+    }
+
+    static void fits(String text, int tokens) {
+        same("tokens of " + text, tokens, new Desk().compile(text));
+    }
+
+    /** A program whose first '@' stands in front of the place where it ends with that fault. */
+    static void faultAt(String marked, int fault) {
+        faultAt(marked, 200000, fault);
+    }
+
+    static void faultAt(String marked, int fuel, int fault) {
+        Desk desk = new Desk();
+        same(marked + " fault", fault, desk.run(unmarked(marked), fuel));
+        same(marked + " place", marked.indexOf('@'), desk.bench.place());
+    }
+
+    /** A program that needs so much fuel, the last of it for what begins at its first '@'. */
+    static void takes(String marked, int fuel) {
+        String text = unmarked(marked);
+        faults(text, fuel, 0, EquationBench.NONE, 0);
+        faults(text, fuel - 1, 14, marked.indexOf('@'), 0);
+    }
+
+    private static String unmarked(String marked) {
+        int at = marked.indexOf('@');
+        return marked.substring(0, at) + marked.substring(at + 1);
+    }
+
+    static String times(String text, int n) {
+        return text.repeat(n);
+    }
+
     /** To be called last. */
     static void finish() {
         System.out.println(looked + " answers looked at, " + wrong + " wrong");
