@@ -1086,7 +1086,7 @@ public final class EquationBench {
     /** A text, its tokens, and what it was compiled to. */
     private static final class Program {
         private static final int CODE = 4;
-        private static final int HEAD = 6;
+        private static final int HEAD = 5;
         private char[] text = new char[256];
         private int length;
         private int tokens;
@@ -1097,8 +1097,8 @@ public final class EquationBench {
         /** Of each instruction: what it does, its token, and two numbers more. */
         private int[] code = new int[256];
         private int size;
-        /** Of each function: its name, its begin, its first parameter's token, how many, its results likewise. */
-        private int[] head = new int[24];
+        /** Of each function: its begin, its first parameter's token, how many, its results likewise. */
+        private int[] head = new int[20];
         private int functions;
         private int[] functionOf = new int[128];
 
@@ -1205,12 +1205,11 @@ public final class EquationBench {
                 head = Arrays.copyOf(head, head.length * 2);
             }
             int at = functions * HEAD;
-            head[at] = name;
-            head[at + 1] = size;
-            head[at + 2] = parameter;
-            head[at + 3] = parameters;
-            head[at + 4] = result;
-            head[at + 5] = results;
+            head[at] = size;
+            head[at + 1] = parameter;
+            head[at + 2] = parameters;
+            head[at + 3] = result;
+            head[at + 4] = results;
             functions++;
             if (name >= 0 && name < functionOf.length) {
                 functionOf[name] = functions;
@@ -1227,24 +1226,24 @@ public final class EquationBench {
         }
 
         int entryOf(int function) {
-            return headAt(function, 1);
+            return headAt(function, 0);
         }
 
         int parametersOf(int function) {
-            return headAt(function, 3);
+            return headAt(function, 2);
         }
 
         int resultsOf(int function) {
-            return headAt(function, 5);
+            return headAt(function, 4);
         }
 
         /** The name of parameter i, from 0; a comma stands between two. */
         int parameterName(int function, int i) {
-            return valueOf(headAt(function, 2) + 2 * i);
+            return valueOf(headAt(function, 1) + 2 * i);
         }
 
         int resultName(int function, int i) {
-            return valueOf(headAt(function, 4) + 2 * i);
+            return valueOf(headAt(function, 3) + 2 * i);
         }
     }
 

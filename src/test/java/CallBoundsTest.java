@@ -334,6 +334,11 @@ public final class CallBoundsTest {
             Desk.same("number", "IndexOutOfBoundsException", numberThrows(x, 0, 0));
             Desk.same("the tape is empty, too", "IllegalArgumentException", endThrows(x, 0));
         }
+        for (String name : new String[] { "zeros", "ones", "fault", "error", "count", "fi", "catchy", "ends" }) {
+            Desk.same("without a value " + name, 0, ask(desk, name));
+            desk.run(name + " = 5;");
+            Desk.same("with one " + name, 1, ask(desk, name));
+        }
         Desk.same("a text", 2, ask(desk, "t"));
         Desk.same("a matrix without numbers", 1, ask(desk, "e"));
     }

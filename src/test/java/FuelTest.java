@@ -218,6 +218,8 @@ public final class FuelTest {
         }
         Desk.takes("x = ones(8, 8); y = 2 @* x;", 6 + 4 + 2);
         Desk.takes("x = ones(3, 3); y = x @^ 64;", 4 + 4);
+        Desk.takes("x = ones(5, 5) / 5; y = x @^ 1;", 6 + 4 + 3);
+        Desk.takes("x = ones(5, 5) / 5; y = x @^ 3;", 6 + 4 + 9);
         Desk.takes("x = ones(4, 4) / 4; y = x @^ 0;", 6 + 4);
         Desk.takes("x = ones(4, 4) / 4; y = x @^ 1;", 6 + 4 + 2);
         Desk.takes("x = ones(4, 4) / 4; y = x @^ 2;", 6 + 4 + 4);

@@ -79,6 +79,8 @@ public final class FunctionBoundsTest {
         sized("repeat([1, 2], 3, 0)", 3, 0);
         sized("repeat(zeros(0, 3), 5, 2)", 0, 6);
         gives("kron([1, 2; 3, 4], [1, 10]), kron([1, 2], [1; 10]), kron(2, 3)", "[1, 10, 2, 20; 3, 30, 4, 40] [1, 2; 10, 20] 6");
+        gives("kron([1, 2; 3, 4], [1, 10; 100, 1000])", "[1, 10, 2, 20; 100, 1000, 200, 2000; 3, 30, 4, 40; 300, 3000, 400, 4000]");
+        gives("repeat([1, 2; 3, 4], 2, 2)", "[1, 2, 1, 2; 3, 4, 3, 4; 1, 2, 1, 2; 3, 4, 3, 4]");
         sized("kron(zeros(0, 3), ones(2, 2))", 0, 6);
         sized("kron(ones(2, 2), zeros(3, 0))", 6, 0);
         fails("kron([1, 1e200], [1, 1e200])", RANGE);
@@ -180,6 +182,8 @@ public final class FunctionBoundsTest {
         fails("mod([1, 2], [1, 0])", ZERO);
         fails("mod(1, -0)", ZERO);
         fails("mod(1e300, 1e-300)", RANGE);
+        fails("mod(1.7e308, -1e308)", RANGE);
+        gives("mod(1.7e308, 2 ^ 1023) == 1.7e308 - 2 ^ 1023, mod(-1.7e308, -(2 ^ 1023)) == 2 ^ 1023 - 1.7e308", "1 1");
         fails("mod([1, 2], [1, 2, 3])", SHAPE);
         fails("mod([1, 2], [1; 2])", SHAPE);
     }

@@ -120,6 +120,10 @@ public final class SolvingBoundsTest {
         Desk.faultAt("x = [0, 1; 0, 1; 0, 1] @\\ [1; 1; 1];", SINGULAR);
         Desk.faultAt("x = [0, 1e-150; 0, 1e-150; 0, 1e-150] @\\ [1e200; 1e200; 1e200];", RANGE);
         Desk.faultAt("x = [1e200; 1] @\\ [1; 1];", RANGE);
+        Desk.prints("x = [1, 1; 1, 2; 1, 3; 1, 5]; y = [1, 2, 9; 2, 3, 8; 4, 4, 7; 8, 5, 6]; z = x \\ y; print z == [x \\ y(:, 1), x \\ y(:, 2), x \\ y(:, 3)];",
+            "[1, 1, 1; 1, 1, 1]\n");
+        Desk.prints("x = [1, 1; 1, 2; 1, 3]; y = [1, 4; 2, 5; 3, 6]; print all(y' / x' == (x \\ y)');", "1\n");
+        Desk.prints("x = [4, 1; 1, 3]; y = [1, 2, 9; 2, 3, 8]; print all(x \\ y == [x \\ y(:, 1), x \\ y(:, 2), x \\ y(:, 3)]);", "1\n");
         Desk.faultAt("x = [1; 1] @\\ [1.7e308; 1.7e308];", RANGE);
     }
 
@@ -152,6 +156,13 @@ public final class SolvingBoundsTest {
         fails("qr(zeros(65, 0))", SHAPE);
         Desk.prints("[q, r] = qr([1e-170; 1e-170]); print q, r;", "[1, 0; 0, 1] [1e-170; 1e-170]\n");
         fails("qr([1e155; 1])", RANGE);
+        // h, v' * x, twice that, that by h, and what is left of x.
+        fails("qr([1.2e154; 1])", RANGE);
+        fails("qr([1e150, 1e200; 1, 1])", RANGE);
+        fails("qr([1, 8e307; 0, 1])", RANGE);
+        fails("qr([1e-160, 1e300; 0, 1])", RANGE);
+        fails("qr([0.4, 1.5e308; 0.4, -1.5e308])", RANGE);
+        gives("qr([1, 4e307; 0, 1])", "[-1, 0; 0, 1]");
         Desk.prints("[q, r] = qr([2e-162; 0]); print r(2);", "0\n");
     }
 
@@ -185,6 +196,12 @@ public final class SolvingBoundsTest {
         gives("eig([1e308, 1; 1, -1e308])", "[-1e308; 1e308]");
         fails("eig([1, 1e308; 1e308, 1])", RANGE);
         fails("eig([0, 1e-200; 1e-200, 1])", RANGE);
+        gives("eig([1, 8e307; 8e307, 1]), eig([1, 8.9e307; 8.9e307, 1])", "[-8e307; 8e307] [-8.9e307; 8.9e307]");
+        fails("eig([1, 9e307; 9e307, 1])", RANGE);
+        fails("eig([-1.2e308, 8e307; 8e307, -1.2e308])", RANGE);
+        fails("eig([1.2e308, 8e307; 8e307, 1.2e308])", RANGE);
+        fails("eig([1, 1, 1.5e308; 1, 1, -1.5e308; 1.5e308, -1.5e308, 1])", RANGE);
+        fails("eig([1, 1, 1.5e308; 1, 1, 1.5e308; 1.5e308, 1.5e308, 1])", RANGE);
         Desk.same("numbers that settle", 0, new Desk().run("x = (1:8)' * (1:8) + eye(8); [v, w] = eig(x); y = max(max(abs(w' * w - eye(8)))) < 1e-12;"));
     }
 
@@ -197,7 +214,13 @@ public final class SolvingBoundsTest {
         Desk.prints("[z, p] = proved(1, 0); print z, p; [z, p] = proved(eye(3), zeros(3, 1)); print p;", "0 1\n1\n");
         Desk.prints("[z, p] = proved(1e308, 1e-10); print z == 0, p; [z, p] = proved(1e308, 1e-300); print z, p;", "0 2\n0 2\n");
         Desk.prints("[z, p] = proved([1, 0; 2 ^ -1022, 1], [1; 1]); print p; [z, p] = proved([1, 0; 2 ^ -1023, 1], [1; 1]); print p;", "1\n2\n");
-        Desk.prints("[z, p] = proved([1, 1e-200; 1e-200, 1], [1; 1]); print p;", "2\n");
+        // Too small alone: l, l u, l y, u z, and the quotient by u; but not what is 0 for a 0.
+        Desk.prints("[z, p] = proved([1, 0; 2 ^ -1023, 1], [0; 1]); print p;", "2\n");
+        Desk.prints("[z, p] = proved([1, 1e-200; 1e-200, 1], [0; 1]); print p;", "2\n");
+        Desk.prints("[z, p] = proved([1, 0; 1e-200, 1], [1e-200; 1]); print p;", "2\n");
+        Desk.prints("[z, p] = proved([1, 1e-200; 0, 1], [1; 1e-200]); print p;", "2\n");
+        Desk.prints("[z, p] = proved([1, 0; 0, 1e200], [1; 1e-200]); print p;", "2\n");
+        Desk.prints("[z, p] = proved([1, 0; 1e-200, 1], [0; 1]); print p; [z, p] = proved([1, 1e-200; 0, 1], [1; 0]); print p;", "1\n1\n");
         Desk.prints("[z, p] = proved([1, 0.5; 0.5, 1], [1; 1]); print z, p; z = proved(4, 2); print z; [~, p] = proved(3, 1); print p;",
             "[0.6666666666666667; 0.6666666666666666] 1\n0.5\n1\n");
         fails("proved(0, 1)", SINGULAR);

@@ -147,6 +147,36 @@ public final class StatementBoundsTest {
         Desk.prints("function r = f() r = 1; try r = 2; return; catch r = 3; end r = 4; end print f();", "2\n");
     }
 
+    /** A try ends where it ends: what leaves an inner one, or a loop inside one, leaves the outer one as it is. */
+    private static void triesInTries() {
+        Desk.prints("try try catch end x = 1 / 0; catch print 1; end", "1\n");
+        Desk.prints("try try x = nosuch; catch end x = 1 / 0; catch print 1; end", "1\n");
+        Desk.prints("try for (i = 1:3) break; end x = 1 / 0; catch print 1; end", "1\n");
+        Desk.prints("try for (i = 1:3) continue; end x = 1 / 0; catch print 1; end", "1\n");
+        Desk.prints("try while (1) try break; catch print 9; end end x = 1 / 0; catch print 1; end", "1\n");
+        Desk.prints("try for (i = 1:3) try x = nosuch; catch print i; end end print 4; catch print 9; end", "1\n2\n3\n4\n");
+        Desk.prints("for (i = 1:2) try for (j = 1:2) try x = nosuch; catch print i, j; end end catch print 9; end end", "1 1\n1 2\n2 1\n2 2\n");
+        Desk.prints("function f() try return; catch print 9; end end try f(); x = 1 / 0; catch print 1; end", "1\n");
+        Desk.prints(Desk.times("try ", 40) + "x = nosuch; " + Desk.times("catch print fault(); x = 1 / 0; end ", 39) + "catch print 5; end",
+            "2\n" + Desk.times("7\n", 38) + "5\n");
+        for (String first : new String[] { "try return; catch print 9; end", "try while (1) end catch print 9; end" }) {
+            Desk desk = new Desk();
+            desk.run(first, 50);
+            Desk.same("a try of the run before is none of this one: " + first, 7, desk.run("x = 1 / 0;"));
+            Desk.same("nothing is printed", "", desk.output());
+        }
+    }
+
+    /** What an "or" alone works out waits no longer when its statement is over. */
+    private static void nothingWaitsBehindStatements() {
+        Desk.prints("x = 1:3; function r = f() r = 1; end for (i = 1:300) x; x(2); (x); 1; [1, 2]; \"a\"; x'; f(); f; abs(1); [a, b] = size(1); end print i;",
+            "300\n");
+        Desk.prints("x(2) = 1; for (i = 1:300) x(1) = i; x(:) = i; x = [x(1), 2]; end print x;", "[300, 2]\n");
+        Desk.prints("for (i = 1:300) if (1 && 1) end if (0 || 0) elseif (1) else end k = 2; while (k) k = k - 1; end end print i;", "300\n");
+        Desk.prints("for (i = 1:300) try x = [1, 2 + nosuch]; catch end end print i;", "300\n");
+        Desk.prints("for (i = 1:300) try error(\"a\"); catch end try abs(\"a\"); catch end end print i;", "300\n");
+    }
+
     /** "fault(): the latest fault that was caught in this run, 0 for none." */
     private static void latestFault() {
         Desk desk = new Desk();
@@ -255,6 +285,7 @@ public final class StatementBoundsTest {
     /** "break, continue, return: as usual; return outside of functions ends the program". */
     private static void jumps() {
         Desk.prints("for (i = 1:9) if (i == 2) continue; elseif (i == 4) break; end print i; end print i;", "1\n3\n4\n");
+        Desk.prints("for (i = 1:2) for (j = 1:3) if (j == 2) continue; end print i, j; end end", "1 1\n1 3\n2 1\n2 3\n");
         Desk.prints("for (i = 1:2) k = 0; while (1) k = k + 1; if (k > i) break; end print i, k; end end", "1 1\n2 1\n2 2\n");
         Desk.prints("print 1; return; print 2;", "1\n");
         Desk.prints("for (i = 1:3) try print i; return; catch print 9; end end print 2;", "1\n");
@@ -274,6 +305,8 @@ public final class StatementBoundsTest {
         memoryLast();
         places();
         tries();
+        triesInTries();
+        nothingWaitsBehindStatements();
         latestFault();
         orderOfWriting();
         writtenToNoPlace();

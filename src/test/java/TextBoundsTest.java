@@ -398,6 +398,9 @@ public final class TextBoundsTest {
         Desk.brokenAt("x = " + open + "-a@(1)");
         Desk.brokenAt("x = " + open + "2 ^ -(@(1))");
         Desk.fits("x = " + open + "2 ^ -(1)" + close + ";", 127);
+        Desk.fits("x = -1 + -2 + - -3 + " + Desk.times("(", 60) + "1" + Desk.times(")", 60) + ";", 134);
+        Desk.brokenAt("x = -1 + -2 + - -3 + " + Desk.times("(", 60) + "@(1");
+        Desk.brokenAt("x = (-1) + [-2, -3; -4] + f(-5, -6) + " + Desk.times("(", 60) + "@(1");
         Desk.fits("x = " + open + "(1) + (2) + f(3) + [4]" + close + ";", 137);
         String tries = Desk.times("try ", 59);
         String ends = Desk.times("catch end ", 59);
@@ -421,6 +424,89 @@ public final class TextBoundsTest {
         }
         Desk.fits("", 0);
         Desk.fits("x;", 2);
+    }
+
+    /** A token of two signs at a text's end, and a NUMERAL there, are as long as can be, too. */
+    private static void tokensAtTheEnd() {
+        for (String sign : new String[] { "||", "&&", "==", "~=", "<=", ">=", ".*", "./", ".^" }) {
+            Desk.broken("x" + sign, 3);
+        }
+        for (String good : new String[] { "1", "1.5", "1e5", "1e+5", "1.5e-5", "12", "1.25" }) {
+            Desk.broken("x = " + good, 4 + good.length());
+        }
+        Desk.brokenAt("x = 1@.");
+        Desk.brokenAt("x = 1@e");
+        Desk.brokenAt("x = 1@e+");
+        Desk.brokenAt("x = 1.5@e-");
+        Desk.brokenAt("x@.");
+        Desk.brokenAt("x@&");
+        Desk.brokenAt("x@|");
+        Desk.brokenAt("x = @\"");
+    }
+
+    /** A text is looked at by itself: what texts before it were, long, broken or open, changes nothing. */
+    private static void textsBefore() {
+        String long1 = "function [r, s] = f(a, b) r = 1.5e-3; end [x, ~] = f(a(end, :), \"t\"); if (x == [1, 2; 3, 4]) print x'; else y(1, 2) = -3 ^ -2; end";
+        for (int to = 0; to <= long1.length(); to++) {
+            Desk used = new Desk();
+            used.compile(long1 + " z123456789 = 1234.5678e12;");
+            used.compile(long1.replace('1', '7') + " z = \"" + Desk.times("9", 40) + "\";");
+            used.compile(long1);
+            Desk fresh = new Desk();
+            String text = long1.substring(0, to);
+            Desk.same("tokens of " + text, fresh.compile(text), used.compile(text));
+            Desk.same("place in " + text, fresh.bench.place(), used.bench.place());
+        }
+        Desk desk = new Desk();
+        for (int i = 0; i < 70; i++) {
+            desk.bench.compile();
+            Desk.same("open brackets", EquationBench.NONE, desk.compile("x = " + Desk.times("1+(", 9) + "-"));
+        }
+        Desk.same("70 such texts", 124, desk.compile("x = " + Desk.times("(", 60) + "1" + Desk.times(")", 60) + ";"));
+        Desk other = new Desk();
+        for (String open : new String[] { "if (1) ", "try ", "while (1) for (i = 1) ", "function f() ", "x = (-", "[a, b, c, d, e, f, ", "x = f(1, [2; " }) {
+            other.compile(open);
+            Desk.same("levels behind " + open, 180, other.compile(Desk.times("try ", 60) + Desk.times("catch end ", 60)));
+            other.compile(open);
+            Desk.same("an end of another text's block", EquationBench.NONE, other.compile("end"));
+            Desk.same("its place", 0, other.bench.place());
+            other.compile(open);
+            Desk.same("a loop of another text", EquationBench.NONE, other.compile("x = 1; break;"));
+            Desk.same("its place", 7, other.bench.place());
+            other.compile(open);
+            Desk.same("a fault of its own", EquationBench.NONE, other.compile("[a, )"));
+            Desk.same("its place", 4, other.bench.place());
+        }
+    }
+
+    /** A text may have many functions, and each is found. */
+    private static void manyFunctions() {
+        StringBuilder all = new StringBuilder();
+        StringBuilder sum = new StringBuilder("print 0");
+        for (int i = 0; i < 60; i++) {
+            all.append("function r = f").append(i).append("(x) r = x + ").append(i).append("; end ");
+            sum.append(" + f").append(i).append("(").append(i % 3).append(")");
+        }
+        Desk.prints(all.toString() + sum + ";", "1830\n");
+        Desk.brokenAt(all + "function r = @f0() end");
+        Desk.brokenAt(all + "function f59@() end");
+    }
+
+    /** Numerals with more digits than a number has: what stands far behind decides where it must. */
+    private static void longNumerals() {
+        double[] all = { Double.MIN_VALUE, 7 * Double.MIN_VALUE, Double.MIN_NORMAL, Math.nextDown(Double.MIN_NORMAL), 1.1e-300, 3.3e-200, 1e-100, 0.1, 1.0, 1e22,
+            123456789.125, 3e100, 1e300 };
+        for (double x : all) {
+            BigDecimal half = new BigDecimal(x).add(new BigDecimal(Math.nextUp(x))).divide(new BigDecimal(2));
+            String text = half.toPlainString();
+            String point = text.indexOf('.') < 0 ? "." : "";
+            BigDecimal less = half.subtract(new BigDecimal(Double.MIN_VALUE).movePointLeft(20));
+            for (String numeral : new String[] { text, text + point + Desk.times("0", 60) + "1", less.toPlainString(), half.movePointRight(50).toPlainString() + "e-50" }) {
+                Desk desk = new Desk();
+                desk.run("x = " + numeral + ";");
+                Desk.same("numeral " + numeral, "1x1: " + Double.parseDouble(numeral), desk.value("x"));
+            }
+        }
     }
 
     /** "A FAULT at the place of the first token with which the tokens up to it are no beginning of a program". */
@@ -463,6 +549,10 @@ public final class TextBoundsTest {
         levels();
         levelsThatAreOver();
         endsTooEarly();
+        tokensAtTheEnd();
+        textsBefore();
+        manyFunctions();
+        longNumerals();
         theFirstFaultCounts();
         tokensOfOneText();
         Desk.finish();
