@@ -210,7 +210,8 @@ public final class FuelTest {
 
     /** "x * y and each such product of x ^ y, x being r by k and y k by c (neither being one number, if not both are)". */
     private static void products() {
-        int[][] shapes = { { 1, 31, 1, 0 }, { 1, 32, 1, 1 }, { 4, 4, 1, 0 }, { 4, 4, 2, 1 }, { 2, 16, 2, 2 }, { 3, 7, 3, 1 }, { 3, 7, 4, 2 },
+        int[][] shapes = { { 1, 31, 1, 0 }, { 1, 32, 1, 1 }, { 4, 4, 1, 0 }, { 4, 4, 2, 1 }, { 2, 16, 2, 2 }, { 3, 7, 3, 1 }, { 3, 7, 4,
+            2 },
             { 64, 64, 64, 8192 }, { 8, 0, 8, 0 }, { 0, 8, 4, 0 } };
         for (int[] s : shapes) {
             int made = 1 + 3 + s[0] * s[1] / 32 + 1 + 3 + s[1] * s[2] / 32;
@@ -237,7 +238,8 @@ public final class FuelTest {
 
     /** "x \ y, x being n by m and y with c columns: n m (m + c) / 32 (x / y by matrices as y' \ x', and no more". */
     private static void divisions() {
-        int[][] shapes = { { 2, 2, 5, 0 }, { 2, 2, 6, 1 }, { 4, 4, 1, 2 }, { 4, 4, 0, 2 }, { 4, 2, 1, 0 }, { 4, 2, 2, 1 }, { 64, 1, 63, 128 }, { 16, 1, 1, 1 },
+        int[][] shapes = { { 2, 2, 5, 0 }, { 2, 2, 6, 1 }, { 4, 4, 1, 2 }, { 4, 4, 0, 2 }, { 4, 2, 1, 0 }, { 4, 2, 2, 1 }, { 64, 1, 63,
+            128 }, { 16, 1, 1, 1 },
             { 15, 1, 1, 0 }, { 64, 0, 3, 0 }, { 0, 0, 4, 0 } };
         for (int[] s : shapes) {
             String x = s[0] == s[1] ? "eye(" + s[0] + ")" : "ones(" + s[0] + ", " + s[1] + ") + tril(ones(" + s[0] + ", " + s[1] + "))";

@@ -20,16 +20,21 @@ public final class FunctionBoundsTest {
 
     /** "Arguments are matrices, if nothing else is told (KIND)". */
     private static void kinds() {
-        String[] matrices = { "zeros(@, 1)", "zeros(1, @)", "ones(@, 1)", "ones(1, @)", "eye(@)", "sum(@)", "sum(@, 1)", "sum(1, @)", "prod(@)", "min(@)",
-            "max(@)", "any(@)", "all(@)", "cumsum(@)", "abs(@)", "sqrt(@)", "floor(@)", "ceil(@)", "round(@)", "sign(@)", "mod(@, 1)", "mod(1, @)",
-            "dot(@, 1)", "dot(1, @)", "norm(@)", "kron(@, 1)", "kron(1, @)", "trace(@)", "diag(@)", "tril(@)", "triu(@)", "reshape(@, 1, 1)",
-            "reshape(1, @, 1)", "reshape(1, 1, @)", "repeat(@, 1, 1)", "repeat(1, @, 1)", "repeat(1, 1, @)", "find(@)", "sort(@)", "lu(@)", "det(@)",
+        String[] matrices = { "zeros(@, 1)", "zeros(1, @)", "ones(@, 1)", "ones(1, @)", "eye(@)", "sum(@)", "sum(@, 1)", "sum(1, @)",
+            "prod(@)", "min(@)",
+            "max(@)", "any(@)", "all(@)", "cumsum(@)", "abs(@)", "sqrt(@)", "floor(@)", "ceil(@)", "round(@)", "sign(@)", "mod(@, 1)",
+                "mod(1, @)",
+            "dot(@, 1)", "dot(1, @)", "norm(@)", "kron(@, 1)", "kron(1, @)", "trace(@)", "diag(@)", "tril(@)", "triu(@)",
+                "reshape(@, 1, 1)",
+            "reshape(1, @, 1)", "reshape(1, 1, @)", "repeat(@, 1, 1)", "repeat(1, @, 1)", "repeat(1, 1, @)", "find(@)", "sort(@)",
+                "lu(@)", "det(@)",
             "inv(@)", "chol(@)", "qr(@)", "eig(@)", "proved(@, 1)", "proved(1, @)", "text(@)" };
         for (String call : matrices) {
             fails(call.replace("@", "\"a\""), KIND);
             fails(call.replace("@", "\"\""), KIND);
         }
-        gives("rows(\"abc\"), cols(\"abc\"), count(\"abc\"), size(\"abc\"), rows(\"\"), cols(\"\"), count(\"\"), size(\"\")", "1 3 3 1 1 0 0 1");
+        gives("rows(\"abc\"), cols(\"abc\"), count(\"abc\"), size(\"abc\"), rows(\"\"), cols(\"\"), count(\"\"), size(\"\")",
+            "1 3 3 1 1 0 0 1");
         Desk.prints("[r, c] = size(\"abc\"); print r, c; [r, c] = size(zeros(0, 7)); print r, c;", "1 3\n0 7\n");
         Desk.faultAt("@error(1);", KIND);
         Desk.faultAt("@error([]);", KIND);
@@ -38,7 +43,8 @@ public final class FunctionBoundsTest {
 
     /** "'whole' ones are numbers (SHAPE otherwise) from 0 to 4096 that are whole (DOMAIN otherwise, looked at before what would be too large". */
     private static void wholeArguments() {
-        String[] calls = { "zeros(@, 1)", "zeros(1, @)", "ones(@, 0)", "ones(0, @)", "eye(@)", "reshape([], @, 0)", "reshape([], 0, @)", "repeat([], @, 1)",
+        String[] calls = { "zeros(@, 1)", "zeros(1, @)", "ones(@, 0)", "ones(0, @)", "eye(@)", "reshape([], @, 0)", "reshape([], 0, @)",
+            "repeat([], @, 1)",
             "repeat([], 1, @)" };
         for (String call : calls) {
             for (String bad : new String[] { "-1", "0.5", "4097", "1e300", "-0.5", "4096.5", "-4096", "4294967296" }) {
@@ -99,7 +105,8 @@ public final class FunctionBoundsTest {
         sized("diag(1:64)", 64, 64);
         fails("diag(1:65)", SHAPE);
         fails("diag(ones(65, 1))", SHAPE);
-        gives("trace([1, 2, 3; 4, 5, 6]), trace([1, 2; 3, 4; 5, 6]), trace(7), trace([]), trace(zeros(0, 3)), trace([1, 2, 3])", "6 5 7 0 0 1");
+        gives("trace([1, 2, 3; 4, 5, 6]), trace([1, 2; 3, 4; 5, 6]), trace(7), trace([]), trace(zeros(0, 3)), trace([1, 2, 3])",
+            "6 5 7 0 0 1");
         fails("trace([1e308, 0; 0, 1e308])", RANGE);
         gives("tril([1, 2; 3, 4]), triu([1, 2; 3, 4]), tril([1, 2, 3; 4, 5, 6]), triu([1, 2; 3, 4; 5, 6])",
             "[1, 0; 3, 4] [1, 2; 0, 4] [1, 0, 0; 4, 5, 0] [1, 2; 0, 4; 0, 0]");
@@ -150,16 +157,20 @@ public final class FunctionBoundsTest {
         sized("find(zeros(0, 5))", 0, 1);
         Desk.prints("[s, i] = sort([3, 1; 2, 1]); print s, i; [s, i] = sort([2; 1]); print s, i; [s, i] = sort(7); print s, i;",
             "[1, 1; 2, 3] [2, 4; 3, 1]\n[1; 2] [2; 1]\n7 1\n");
-        Desk.prints("[s, i] = sort([5, 5, 5, 1, 1]); print s, i; [s, i] = sort(zeros(0, 3)); print cols(s), cols(i);", "[1, 1, 5, 5, 5] [4, 5, 1, 2, 3]\n3 3\n");
+        Desk.prints("[s, i] = sort([5, 5, 5, 1, 1]); print s, i; [s, i] = sort(zeros(0, 3)); print cols(s), cols(i);",
+            "[1, 1, 5, 5, 5] [4, 5, 1, 2, 3]\n3 3\n");
         Desk.prints("x = mod((1:4096) * 37, 4097); [s, i] = sort(x); print all(s == (1:4096)), all(x(i) == s);", "1 1\n");
     }
 
     /** "sqrt (DOMAIN, if one is below 0)", "round (the whole number nearest; of two the one farther from 0)", "sign (-1, 0, 1)". */
     private static void numberByNumber() {
         gives("abs([-1, 0, 2]), abs(-5e-324), sign([-5, 0, 7]), sign(5e-324), sign(-5e-324)", "[1, 0, 2] 5e-324 [-1, 0, 1] 1 -1");
-        gives("floor([1.5, -1.5, 2, -2, 0]), floor(0.9999999999999999), floor(-5e-324), floor(4503599627370495.5)", "[1, -2, 2, -2, 0] 0 -1 4503599627370495");
-        gives("ceil([1.5, -1.5, 2, -2, 0]), ceil(1.0000000000000002), ceil(5e-324), ceil(4503599627370495.5)", "[2, -1, 2, -2, 0] 2 1 4503599627370496");
-        gives("round([0.5, -0.5, 1.5, -1.5, 2.5, -2.5]), round(0.49999999999999994), round(-0.49999999999999994)", "[1, -1, 2, -2, 3, -3] 0 0");
+        gives("floor([1.5, -1.5, 2, -2, 0]), floor(0.9999999999999999), floor(-5e-324), floor(4503599627370495.5)",
+            "[1, -2, 2, -2, 0] 0 -1 4503599627370495");
+        gives("ceil([1.5, -1.5, 2, -2, 0]), ceil(1.0000000000000002), ceil(5e-324), ceil(4503599627370495.5)",
+            "[2, -1, 2, -2, 0] 2 1 4503599627370496");
+        gives("round([0.5, -0.5, 1.5, -1.5, 2.5, -2.5]), round(0.49999999999999994), round(-0.49999999999999994)",
+            "[1, -1, 2, -2, 3, -3] 0 0");
         gives("round(4503599627370495.5), round(-4503599627370495.5), round(4503599627370497), round(9007199254740993), round(1e300)",
             "4503599627370496 -4503599627370496 4503599627370497 9007199254740992 1e300");
         gives("floor(-1e300), ceil(1e300), floor(9007199254740991), ceil(-9007199254740991), round(2251799813685247.5)",
@@ -176,7 +187,8 @@ public final class FunctionBoundsTest {
     /** "mod(x, y): x - (floor(x / y) y), number by number as + (ZERO for y 0)." */
     private static void remainders() {
         gives("mod(5, 3), mod(-5, 3), mod(5, -3), mod(-5, -3), mod(6, 3), mod(0, 5), mod(5.5, 2)", "2 1 -1 -2 0 0 1.5");
-        gives("mod([5, 6], 4), mod(7, [4, 5]), mod([5, 6], [3, 4]), mod([], 3), mod(1e20, 3), mod(-1e-20, 1)", "[1, 2] [3, 2] [2, 2] [] 0 1");
+        gives("mod([5, 6], 4), mod(7, [4, 5]), mod([5, 6], [3, 4]), mod([], 3), mod(1e20, 3), mod(-1e-20, 1)",
+            "[1, 2] [3, 2] [2, 2] [] 0 1");
         fails("mod(1, 0)", ZERO);
         fails("mod(0, 0)", ZERO);
         fails("mod([1, 2], [1, 0])", ZERO);

@@ -29,7 +29,8 @@ public final class PartBoundsTest {
         Desk.faultAt("x = 1 @/ 0:nosuch;", ZERO);
         Desk.faultAt("x = \"a\":(1 @/ 0):nosuch;", ZERO);
         Desk.faultAt("print @nosuch, 1 / 0;", NAME);
-        Desk.prints("function r = f(x) print x; r = x; end y = f(1) + f(2) * f(3); z = [f(4), f(5); f(6)', f(7)];", "1\n2\n3\n4\n5\n6\n7\n");
+        Desk.prints("function r = f(x) print x; r = x; end y = f(1) + f(2) * f(3); z = [f(4), f(5); f(6)', f(7)];",
+            "1\n2\n3\n4\n5\n6\n7\n");
     }
 
     /** "(but '&&' and '||': the right side only if the left one is TRUE, or is not; they give 1 or 0 by TRUE)". */
@@ -193,7 +194,8 @@ public final class PartBoundsTest {
         leaves("a = [\"ab\", \"\", \"c\"];", "1 3 abc");
         leaves("a = [\"\"];", "1 0 ");
         leaves("a = [\"\", \"\"];", "1 0 ");
-        for (String bad : new String[] { "\"a\", 1", "1, \"a\"", "\"\", 1", "1, \"\"", "\"a\"; \"b\"", "\"\"; \"\"", "\"a\"; \"\"", "1; \"a\"", "\"a\"; 1",
+        for (String bad : new String[] { "\"a\", 1", "1, \"a\"", "\"\", 1", "1, \"\"", "\"a\"; \"b\"", "\"\"; \"\"", "\"a\"; \"\"",
+            "1; \"a\"", "\"a\"; 1",
             "1; \"\"", "\"\"; 1", "\"a\", [1; 2]", "\"a\"; 1, 2", "\"a\", \"b\"; []; \"c\"" }) {
             Desk.faultAt("a = @[" + bad + "];", KIND);
         }
@@ -243,7 +245,8 @@ public final class PartBoundsTest {
         Desk.faultAt("x = 1e-200 @.^ -2;", ZERO);
         Desk.faultAt("x = 1e200 @.^ -2;", 6);
         Desk.faultAt("x = 5e-324 @^ -1;", 6);
-        gives("eye(2) ^ 64, eye(2) ^ 0, [2, 0; 0, 3] ^ 2, [1, 2; 3, 4] ^ 1, [] ^ 3", "[1, 0; 0, 1] [1, 0; 0, 1] [4, 0; 0, 9] [1, 2; 3, 4] []");
+        gives("eye(2) ^ 64, eye(2) ^ 0, [2, 0; 0, 3] ^ 2, [1, 2; 3, 4] ^ 1, [] ^ 3",
+            "[1, 0; 0, 1] [1, 0; 0, 1] [4, 0; 0, 9] [1, 2; 3, 4] []");
         Desk.faultAt("x = eye(2) @^ 65;", DOMAIN);
         Desk.faultAt("x = eye(2) @^ -1;", DOMAIN);
         Desk.faultAt("x = eye(2) @^ 0.5;", DOMAIN);
@@ -279,7 +282,8 @@ public final class PartBoundsTest {
     /** "v(i): i a matrix of whole numbers from 1 to how many there are (KIND; INDEX otherwise): .. in the shape of i". */
     private static void partsByOne() {
         gives("x(1), x(6), x([6, 1]), x([1; 6]), x([1, 2; 5, 6])", "1 6 [6, 1] [1; 6] [1, 2; 5, 6]");
-        for (String bad : new String[] { "0", "7", "-1", "1.5", "0.9999999999999999", "6.000000000000001", "1e300", "[1, 7]", "[0; 1]", "4097", "2147483648",
+        for (String bad : new String[] { "0", "7", "-1", "1.5", "0.9999999999999999", "6.000000000000001", "1e300", "[1, 7]", "[0; 1]",
+            "4097", "2147483648",
             "4294967297" }) {
             Desk.faultAt("x = [1, 2, 3; 4, 5, 6]; y = x@(" + bad + ");", INDEX);
         }
@@ -299,7 +303,8 @@ public final class PartBoundsTest {
         gives("x(1, 1), x(2, 3), x(2, [3, 1]), x([2, 1], 3), x([2, 1], [3, 1, 1])", "1 6 [6, 4] [6; 3] [6, 4, 4; 3, 1, 1]");
         gives("x(:, 2), x(2, :), x(:, :), x([1; 2], [1; 2])", "[2; 5] [4, 5, 6] [1, 2, 3; 4, 5, 6] [1, 2; 4, 5]");
         gives("x([1, 2; 2, 1], 1)", "[1; 4; 4; 1]");
-        for (String bad : new String[] { "0, 1", "3, 1", "1, 0", "1, 4", "1.5, 1", "1, 1.5", "-1, 1", "1, -1", "[1, 3], 1", "1, [1, 4]", "3, :", ":, 4", "3, []",
+        for (String bad : new String[] { "0, 1", "3, 1", "1, 0", "1, 4", "1.5, 1", "1, 1.5", "-1, 1", "1, -1", "[1, 3], 1", "1, [1, 4]",
+            "3, :", ":, 4", "3, []",
             "[], 4" }) {
             Desk.faultAt("x = [1, 2, 3; 4, 5, 6]; y = x@(" + bad + ");", INDEX);
         }
@@ -322,7 +327,8 @@ public final class PartBoundsTest {
         leaves("a = [1, 2; 3, 4]; a(:) = [5, 6, 7, 8];", "2 2 [5, 6; 7, 8]");
         leaves("a = 1:3; a([2, 2, 2]) = [7, 8, 9];", "1 3 [1, 9, 3]");
         leaves("a = [1, 2]; a([1, 1], [2, 2]) = 5:8;", "1 2 [1, 8]");
-        for (String bad : new String[] { "(1:2) @= 1:3", "(1:2) @= []", "(1) @= [1, 2]", "(1) @= []", "(:) @= 1:3", "(:) @= []", "(1, :) @= 1:3", "(:, :) @= 1:3",
+        for (String bad : new String[] { "(1:2) @= 1:3", "(1:2) @= []", "(1) @= [1, 2]", "(1) @= []", "(:) @= 1:3", "(:) @= []",
+            "(1, :) @= 1:3", "(:, :) @= 1:3",
             "([]) @= [1, 2]", "(1, []) @= [1, 2]", "(0) @= [1, 2]", "(1.5, 1) @= [1, 2]", "([0, 9]) @= 1:3" }) {
             Desk.faultAt("a = [1, 2; 3, 4]; a" + bad + ";", SHAPE);
         }
@@ -341,7 +347,8 @@ public final class PartBoundsTest {
             Desk.faultAt("a = 1:3; a@(" + bad + ", 1) = 1;", INDEX);
             Desk.faultAt("a = 1:3; a@(1, " + bad + ") = 1;", INDEX);
         }
-        for (String far : new String[] { "1073741824", "1073741824, 1", "1, 1073741824", "1073741824, 1073741824", "1073741824, []", "[], 1073741824" }) {
+        for (String far : new String[] { "1073741824", "1073741824, 1", "1, 1073741824", "1073741824, 1073741824", "1073741824, []",
+            "[], 1073741824" }) {
             Desk.faultAt("a@(" + far + ") = 1;", SHAPE);
         }
         Desk.faultAt("a = 1:3; a@(1073741824) = 1;", SHAPE);

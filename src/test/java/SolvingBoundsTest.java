@@ -54,7 +54,8 @@ public final class SolvingBoundsTest {
 
     /** "if it is 0 (so all of them are), the fault is SINGULAR", "det(x): .. (0, if it is SINGULAR; 1 for 0 by 0)". */
     private static void singular() {
-        for (String x : new String[] { "0", "[0, 0; 0, 0]", "[1, 2; 2, 4]", "[0, 1; 0, 1]", "[1, 0; 1, 0]", "[1, 2, 3; 2, 4, 6; 4, 8, 12]" }) {
+        for (String x : new String[] { "0", "[0, 0; 0, 0]", "[1, 2; 2, 4]", "[0, 1; 0, 1]", "[1, 0; 1, 0]",
+            "[1, 2, 3; 2, 4, 6; 4, 8, 12]" }) {
             fails("inv(" + x + ")", SINGULAR);
             fails("lu(" + x + ")", SINGULAR);
             Desk.faultAt("x = " + x + " @\\ ones(rows(" + x + "), 1);", SINGULAR);
@@ -148,7 +149,8 @@ public final class SolvingBoundsTest {
         Desk.prints("[q, r] = qr([0; 2]); print q, r; [q, r] = qr([0; -2]); print r;", "[0, 1; 1, 0] [2; 0]\n[2; 0]\n");
         Desk.prints("[q, r] = qr([0, 1; 0, 2]); print q, r;", "[1, 0; 0, 1] [0, 1; 0, 2]\n");
         Desk.prints("[q, r] = qr([1, 2; 0, 3]); print q, r;", "[-1, 0; 0, 1] [-1, -2; 0, 3]\n");
-        Desk.prints("[q, r] = qr([]); print cols(q), cols(r); [q, r] = qr(zeros(3, 0)); print q, rows(r), cols(r);", "0 0\n[1, 0, 0; 0, 1, 0; 0, 0, 1] 3 0\n");
+        Desk.prints("[q, r] = qr([]); print cols(q), cols(r); [q, r] = qr(zeros(3, 0)); print q, rows(r), cols(r);",
+            "0 0\n[1, 0, 0; 0, 1, 0; 0, 0, 1] 3 0\n");
         Desk.prints("[q, r] = qr(ones(64, 1)); print rows(q), cols(q), rows(r), cols(r), r(1) == -8, any(r(2:64));", "64 64 64 1 1 0\n");
         fails("qr([1, 2])", SHAPE);
         fails("qr(zeros(0, 1))", SHAPE);
@@ -175,7 +177,8 @@ public final class SolvingBoundsTest {
         Desk.prints("[v, w] = eig([3, 0, 0; 0, 1, 0; 0, 0, 2]); print v, w;", "[1; 2; 3] [0, 0, 1; 1, 0, 0; 0, 1, 0]\n");
         Desk.prints("[v, w] = eig([2, 0, 0; 0, 1, 0; 0, 0, 1]); print v, w;", "[1; 1; 2] [0, 0, 1; 1, 0, 0; 0, 1, 0]\n");
         Desk.prints("[v, w] = eig(7); print v, w; [v, w] = eig([]); print rows(v), cols(v), rows(w), cols(w);", "7 1\n0 1 0 0\n");
-        Desk.prints("[v, w] = eig([0, 1; 1, 0]); print v, w;", "[-1; 1] [0.7071067811865475, 0.7071067811865475; -0.7071067811865475, 0.7071067811865475]\n");
+        Desk.prints("[v, w] = eig([0, 1; 1, 0]); print v, w;",
+            "[-1; 1] [0.7071067811865475, 0.7071067811865475; -0.7071067811865475, 0.7071067811865475]\n");
     }
 
     /** "if its size is not above 2^-54 times that of x(p,p), nor above 2^-54 times that of x(q,q), both .. become 0". */
@@ -202,7 +205,8 @@ public final class SolvingBoundsTest {
         fails("eig([1.2e308, 8e307; 8e307, 1.2e308])", RANGE);
         fails("eig([1, 1, 1.5e308; 1, 1, -1.5e308; 1.5e308, -1.5e308, 1])", RANGE);
         fails("eig([1, 1, 1.5e308; 1, 1, 1.5e308; 1.5e308, 1.5e308, 1])", RANGE);
-        Desk.same("numbers that settle", 0, new Desk().run("x = (1:8)' * (1:8) + eye(8); [v, w] = eig(x); y = max(max(abs(w' * w - eye(8)))) < 1e-12;"));
+        Desk.same("numbers that settle", 0,
+            new Desk().run("x = (1:8)' * (1:8) + eye(8); [v, w] = eig(x); y = max(max(abs(w' * w - eye(8)))) < 1e-12;"));
     }
 
     /** "2, if on the way a product or quotient of numbers that are not 0 was below 2^-1022 in size; otherwise 1". */
@@ -213,7 +217,8 @@ public final class SolvingBoundsTest {
         Desk.prints("[z, p] = proved(1, -(2 ^ -1022)); print p; [z, p] = proved(-1, 2 ^ -1022 - 5e-324); print p;", "1\n2\n");
         Desk.prints("[z, p] = proved(1, 0); print z, p; [z, p] = proved(eye(3), zeros(3, 1)); print p;", "0 1\n1\n");
         Desk.prints("[z, p] = proved(1e308, 1e-10); print z == 0, p; [z, p] = proved(1e308, 1e-300); print z, p;", "0 2\n0 2\n");
-        Desk.prints("[z, p] = proved([1, 0; 2 ^ -1022, 1], [1; 1]); print p; [z, p] = proved([1, 0; 2 ^ -1023, 1], [1; 1]); print p;", "1\n2\n");
+        Desk.prints("[z, p] = proved([1, 0; 2 ^ -1022, 1], [1; 1]); print p; [z, p] = proved([1, 0; 2 ^ -1023, 1], [1; 1]); print p;",
+            "1\n2\n");
         // Too small alone: l, l u, l y, u z, and the quotient by u; but not what is 0 for a 0.
         Desk.prints("[z, p] = proved([1, 0; 2 ^ -1023, 1], [0; 1]); print p;", "2\n");
         Desk.prints("[z, p] = proved([1, 1e-200; 1e-200, 1], [0; 1]); print p;", "2\n");

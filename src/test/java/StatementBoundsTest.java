@@ -133,7 +133,8 @@ public final class StatementBoundsTest {
         Desk.prints("try x = 1; y = 1 / 0; x = 2; catch print x, fault(); end print 3;", "1 7\n3\n");
         Desk.prints("try try y = 1 / 0; catch y = sqrt(-1); end print 1; catch print fault(); end", "8\n");
         Desk.prints("try y = 1 / 0; catch end try catch print 1; end print fault();", "7\n");
-        Desk.prints("function f() x = 1 / 0; print 1; end try f(); print 2; catch print fault(); end try f(); catch print 3; end", "7\n3\n");
+        Desk.prints("function f() x = 1 / 0; print 1; end try f(); print 2; catch print fault(); end try f(); catch print 3; end",
+            "7\n3\n");
         Desk.prints("function f() try x = 1 / 0; catch print 1; end end try f(); print 2; catch print 3; end", "1\n2\n");
         Desk.prints("function f() try return; catch end end try f(); x = 1 / 0; catch print 1; end", "1\n");
         Desk.faultAt("try x = 1; catch end x = 1 @/ 0;", ZERO);
@@ -155,7 +156,8 @@ public final class StatementBoundsTest {
         Desk.prints("try for (i = 1:3) continue; end x = 1 / 0; catch print 1; end", "1\n");
         Desk.prints("try while (1) try break; catch print 9; end end x = 1 / 0; catch print 1; end", "1\n");
         Desk.prints("try for (i = 1:3) try x = nosuch; catch print i; end end print 4; catch print 9; end", "1\n2\n3\n4\n");
-        Desk.prints("for (i = 1:2) try for (j = 1:2) try x = nosuch; catch print i, j; end end catch print 9; end end", "1 1\n1 2\n2 1\n2 2\n");
+        Desk.prints("for (i = 1:2) try for (j = 1:2) try x = nosuch; catch print i, j; end end catch print 9; end end",
+            "1 1\n1 2\n2 1\n2 2\n");
         Desk.prints("function f() try return; catch print 9; end end try f(); x = 1 / 0; catch print 1; end", "1\n");
         Desk.prints(Desk.times("try ", 40) + "x = nosuch; " + Desk.times("catch print fault(); x = 1 / 0; end ", 39) + "catch print 5; end",
             "2\n" + Desk.times("7\n", 38) + "5\n");
@@ -172,7 +174,8 @@ public final class StatementBoundsTest {
         Desk.prints("x = 1:3; function r = f() r = 1; end for (i = 1:300) x; x(2); (x); 1; [1, 2]; \"a\"; x'; f(); f; abs(1); [a, b] = size(1); end print i;",
             "300\n");
         Desk.prints("x(2) = 1; for (i = 1:300) x(1) = i; x(:) = i; x = [x(1), 2]; end print x;", "[300, 2]\n");
-        Desk.prints("for (i = 1:300) if (1 && 1) end if (0 || 0) elseif (1) else end k = 2; while (k) k = k - 1; end end print i;", "300\n");
+        Desk.prints("for (i = 1:300) if (1 && 1) end if (0 || 0) elseif (1) else end k = 2; while (k) k = k - 1; end end print i;",
+            "300\n");
         Desk.prints("for (i = 1:300) try x = [1, 2 + nosuch]; catch end end print i;", "300\n");
         Desk.prints("for (i = 1:300) try error(\"a\"); catch end try abs(\"a\"); catch end end print i;", "300\n");
     }
@@ -180,7 +183,8 @@ public final class StatementBoundsTest {
     /** "fault(): the latest fault that was caught in this run, 0 for none." */
     private static void latestFault() {
         Desk desk = new Desk();
-        Desk.same("first run", "0\n7\n3\n", desk.printed("print fault(); try x = 1 / 0; catch end print fault(); try try x = \"a\" + 1; catch y = fault(); end catch end print fault();"));
+        Desk.same("first run", "0\n7\n3\n",
+            desk.printed("print fault(); try x = 1 / 0; catch end print fault(); try try x = \"a\" + 1; catch y = fault(); end catch end print fault();"));
         Desk.same("the next run", "0\n", desk.printed("print fault();"));
         Desk.same("a run that ends with a fault", "fault 7 at 6", desk.printed("x = 1 / 0;"));
         Desk.same("and behind it", "0\n", desk.printed("print fault();"));
@@ -294,7 +298,8 @@ public final class StatementBoundsTest {
         Desk desk = new Desk();
         Desk.same("return ends without a fault", 0, desk.run("x = 1; return; x = 1 / 0;"));
         Desk.same("and place is none", -1, desk.bench.place());
-        Desk.same("a name of a frame is none of the workspace", "fault 2 at 35", new Desk().printed("function f() y = 1; end f(); print y;"));
+        Desk.same("a name of a frame is none of the workspace", "fault 2 at 35",
+            new Desk().printed("function f() y = 1; end f(); print y;"));
     }
 
     public static void main(String[] args) {

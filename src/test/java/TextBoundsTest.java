@@ -464,7 +464,8 @@ public final class TextBoundsTest {
         }
         Desk.same("70 such texts", 124, desk.compile("x = " + Desk.times("(", 60) + "1" + Desk.times(")", 60) + ";"));
         Desk other = new Desk();
-        for (String open : new String[] { "if (1) ", "try ", "while (1) for (i = 1) ", "function f() ", "x = (-", "[a, b, c, d, e, f, ", "x = f(1, [2; " }) {
+        for (String open : new String[] { "if (1) ", "try ", "while (1) for (i = 1) ", "function f() ", "x = (-", "[a, b, c, d, e, f, ",
+            "x = f(1, [2; " }) {
             other.compile(open);
             Desk.same("levels behind " + open, 180, other.compile(Desk.times("try ", 60) + Desk.times("catch end ", 60)));
             other.compile(open);
@@ -494,17 +495,34 @@ public final class TextBoundsTest {
 
     /** Numerals with more digits than a number has: what stands far behind decides where it must. */
     private static void longNumerals() {
-        double[] all = { Double.MIN_VALUE, 7 * Double.MIN_VALUE, Double.MIN_NORMAL, Math.nextDown(Double.MIN_NORMAL), 1.1e-300, 3.3e-200, 1e-100, 0.1, 1.0, 1e22,
+        double[] all = { Double.MIN_VALUE, 7 * Double.MIN_VALUE, Double.MIN_NORMAL, Math.nextDown(Double.MIN_NORMAL), 1.1e-300, 3.3e-200,
+            1e-100, 0.1, 1.0, 1e22,
             123456789.125, 3e100, 1e300 };
         for (double x : all) {
             BigDecimal half = new BigDecimal(x).add(new BigDecimal(Math.nextUp(x))).divide(new BigDecimal(2));
             String text = half.toPlainString();
             String point = text.indexOf('.') < 0 ? "." : "";
             BigDecimal less = half.subtract(new BigDecimal(Double.MIN_VALUE).movePointLeft(20));
-            for (String numeral : new String[] { text, text + point + Desk.times("0", 60) + "1", less.toPlainString(), half.movePointRight(50).toPlainString() + "e-50" }) {
+            for (String numeral : new String[] { text, text + point + Desk.times("0", 60) + "1", less.toPlainString(),
+                half.movePointRight(50).toPlainString() + "e-50" }) {
                 Desk desk = new Desk();
                 desk.run("x = " + numeral + ";");
                 Desk.same("numeral " + numeral, "1x1: " + Double.parseDouble(numeral), desk.value("x"));
+            }
+        }
+    }
+
+    /** Halfway between two numbers, and a 1 at the digit that is the last one kept, or near it. */
+    private static void digitsThatAreCutOff() {
+        for (double x : new double[] { 1.0, 3.0, 9.0, 9.75, 97.0, 1e15, 0.1, 0.97, 123456789.125, 987654321.0, 1e-5 }) {
+            String half = new BigDecimal(x).add(new BigDecimal(Math.nextUp(x))).divide(new BigDecimal(2)).toPlainString();
+            String begin = half.indexOf('.') < 0 ? half + "." : half;
+            int digits = new BigDecimal(half).precision();
+            for (int total = 796; total <= 804; total++) {
+                String numeral = begin + Desk.times("0", total - 1 - digits) + "1";
+                Desk desk = new Desk();
+                desk.run("x = " + numeral + ";");
+                Desk.same("numeral of " + total + " digits: " + numeral, "1x1: " + Math.nextUp(x), desk.value("x"));
             }
         }
     }
@@ -553,6 +571,7 @@ public final class TextBoundsTest {
         textsBefore();
         manyFunctions();
         longNumerals();
+        digitsThatAreCutOff();
         theFirstFaultCounts();
         tokensOfOneText();
         Desk.finish();

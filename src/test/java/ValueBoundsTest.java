@@ -166,7 +166,8 @@ public final class ValueBoundsTest {
     private static void namesThatHaveOne() {
         String g = "function r = g(n) k = n; " + locals(65) + " if (n > 1) r = g(n - 1); else @r = 1; end end ";
         String unmarked = g.replace("@", "");
-        Desk.same("60 frames of 67 names, one more, 75 in the workspace", "1\n", new Desk().printed(unmarked + locals(75) + "print g(60);"));
+        Desk.same("60 frames of 67 names, one more, 75 in the workspace", "1\n", new Desk().printed(unmarked + locals(75)
+            + "print g(60);"));
         Desk.faultAt(g + locals(76) + "print g(60);", MEMORY);
         Desk.prints(unmarked + locals(76) + "try print g(60); catch print fault(); end print g(59);", "12\n1\n");
         // The parameter of the 60th call would be the 4097th name: 143 names and 59 frames of 67.
@@ -206,7 +207,8 @@ public final class ValueBoundsTest {
         waits("1 + (1 + (1 + y(1)))");
         waits("1 + (1 + (1 + y(:)))");
         waits("1:2:(1 + 1)");
-        Desk.same("what waits in an open call counts, too", MEMORY, new Desk().run(waiting252() + "1 + (1 + (1 + (1 + h())))" + Desk.times(")", 36) + ";"));
+        Desk.same("what waits in an open call counts, too", MEMORY, new Desk().run(waiting252() + "1 + (1 + (1 + (1 + h())))"
+            + Desk.times(")", 36) + ";"));
         // The left side of && and || does not wait for the right one.
         waits("1 && (1 && (1 && (1 && (0 || (0 || 1)))))");
     }
@@ -243,15 +245,19 @@ public final class ValueBoundsTest {
         String ends = Desk.times("end ", 20);
         Desk.same("20 of them and 236 values", 0,
             new Desk().run(f + fors + "x = " + Desk.times(call, 33) + "1 + (1 + (1 + (1 + 1)))" + Desk.times(")", 33) + "; " + ends));
-        Desk.faultAt(f + fors + "x = " + Desk.times(call, 33) + "1 + (1 + (1 + (1 + (1 + @1))))" + Desk.times(")", 33) + "; " + ends, MEMORY);
-        Desk.faultAt(f + fors + "x = " + Desk.times(call, 33) + "1 + (1 + (1 + (1 + (1 + @[]))))" + Desk.times(")", 33) + "; " + ends, MEMORY);
+        Desk.faultAt(f + fors + "x = " + Desk.times(call, 33) + "1 + (1 + (1 + (1 + (1 + @1))))" + Desk.times(")", 33) + "; " + ends,
+            MEMORY);
+        Desk.faultAt(f + fors + "x = " + Desk.times(call, 33) + "1 + (1 + (1 + (1 + (1 + @[]))))" + Desk.times(")", 33) + "; " + ends,
+            MEMORY);
         Desk.same("none waits behind their ends", 0,
             new Desk().run(f + fors + ends + "x = " + Desk.times(call, 36) + "1 + (1 + (1 + 1))" + Desk.times(")", 36) + ";"));
         Desk.same("nor behind break", 0, new Desk().run(f + Desk.times("for (i = 1:3) break; end ", 30) + "x = "
             + Desk.times(call, 36) + "1 + (1 + (1 + 1))" + Desk.times(")", 36) + ";"));
-        Desk.same("nor behind a fault that is caught", 0, new Desk().run(f + Desk.times("try for (i = 1:3) x = 1 + nosuch; end catch end ", 30)
+        Desk.same("nor behind a fault that is caught", 0, new Desk().run(f
+            + Desk.times("try for (i = 1:3) x = 1 + nosuch; end catch end ", 30)
             + "x = " + Desk.times(call, 36) + "1 + (1 + (1 + 1))" + Desk.times(")", 36) + ";"));
-        Desk.same("nor behind return", 0, new Desk().run(f + "function h() for (i = 1:3) return; end end " + Desk.times("h(); ", 30) + "x = "
+        Desk.same("nor behind return", 0, new Desk().run(f + "function h() for (i = 1:3) return; end end " + Desk.times("h(); ", 30)
+            + "x = "
             + Desk.times(call, 36) + "1 + (1 + (1 + 1))" + Desk.times(")", 36) + ";"));
     }
 
