@@ -5,9 +5,9 @@ import java.nio.file.Path;
 import java.util.List;
 
 /**
- * Promises 4 to 10 together: programs with what they are due to answer, told by a second program that was
- * written from the document by itself. A line has the fuel, the fault (-1: of the text), its place, the fuel
- * that is left, the output and the program.
+ * Promises 4 to 10 together: programs with what they are due to answer, told by other programs that were written
+ * from the document by themselves. A line has the fuel, the fault (-1: of the text), its place, the fuel that is
+ * left, the output and the program.
  */
 public final class RecordedTest {
     private static String plain(String text) {
@@ -43,7 +43,7 @@ public final class RecordedTest {
         for (String line : lines) {
             look(line);
         }
-        Desk.same("there are some", true, lines.size() > 200);
+        Desk.same("there are some", true, lines.size() > 1000);
         Desk.finish();
     }
 }
